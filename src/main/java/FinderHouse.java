@@ -305,10 +305,6 @@ public final class FinderHouse {
       return ROOM;
     }
     work += wanted;
-    return mendTold(p);
-  }
-
-  private int mendTold(int p) {
     if (search.meetsAsItIs(reader.nodes)) {
       shelf.tell(reader.nodes, asked, search.trial, 0);
       return 0;
@@ -693,31 +689,21 @@ public final class FinderHouse {
     machines.words = 0;
     disk.findUsed();
     int again = 0;
-    for (int block = 1; block <= disk.used; block = disk.gathered + 1) {
-      disk.gatherSync(block);
-      again += redoSync();
-    }
-    disk.forgetWaiting();
-    return again;
-  }
-
-  /** Does the records of the sync that was gathered again: how many. */
-  private int redoSync() {
-    byte[] bytes = disk.wait;
-    int size = disk.waitingBytes;
-    int again = 0;
-    int at = 0;
-    while (at + 3 <= size) {
-      int number = bytes[at];
-      int follow = (bytes[at + 1] & 255) * 256 + (bytes[at + 2] & 255);
-      at += 3;
-      if (number < 1 || number > 7 || at + follow > size) {
-        break;
+    for (int block = 1; block <= disk.used; block++) {
+      if (!disk.gather(block)) {
+        continue;
       }
-      if (redo(number, bytes, at, follow)) {
-        again++;
+      int size = disk.waitingBytes;
+      int follow = 0;
+      for (int at = 3; at <= size; at += follow + 3) {
+        int number = disk.wait[at - 3];
+        follow = (disk.wait[at - 2] & 255) * 256 + (disk.wait[at - 1] & 255);
+        if (number < 1 || number > 7 || at + follow > size) {
+          break;
+        }
+        again += redo(number, disk.wait, at, follow) ? 1 : 0;
       }
-      at += follow;
+      disk.forgetWaiting();
     }
     return again;
   }
@@ -908,7 +894,10 @@ public final class FinderHouse {
   /** The acts, known and own ones, and what they give. */
   private static final class Acts {
     static final int KNOWN = 26, ALL = 36;
-    static final int IF = 15, PICK = 16;
+    static final int ADD = 0, SUB = 1, MUL = 2, DIV = 3, REM = 4, MIN = 5, MAX = 6, AND = 7, OR = 8, XOR = 9;
+    static final int LESS = 10, SAME = 11, NOT = 12, BOTH = 13, IF = 15, PICK = 16;
+    static final int CAT = 17, LEN = 18, TAKE = 19, DROP = 20, HEAD = 22, LIKE = 23, CODE = 24, SIGN = 25;
+    static final int[] POWERS = {1, 27, 729, 19683, 531441, 14348907, 387420489};
     /** What stands in a term and is no act; NUMBER + kind - 1 is a value of a kind. */
     static final int LEAF = 40, PARAMETER = 40, NUMBER = 41, TRUTH = 42, WORD = 43, HOLE = 44, UNKNOWN = 45;
     /** What is looked for, in laws: it has operands, but is no act. */
@@ -931,10 +920,11 @@ public final class FinderHouse {
     private final int[] tableWorked = new int[OWN_ACTS * POINTS];
     private final int[] answers = new int[ROOMS];
     private final int[] worked = new int[ROOMS];
-    /** What the sought function gives, while laws are looked at. */
-    private Ask soughtFor;
+    /** What f gives while laws are looked at: where its answers begin, and how many values its second and third operands have. */
     private int[] sought;
     private int soughtAt;
+    private int soughtSecond;
+    private int soughtThird;
 
     Acts() {
       int nameAt = 0;
@@ -1003,29 +993,25 @@ public final class FinderHouse {
       kinds[act * 4 + 3] = kind;
       terms[owned].become(term);
       weight[act] = 1 + weightOf(terms[owned]);
-      fillTable(owned, operandKinds[0], many == 2 ? operandKinds[1] : T);
-      owned++;
-    }
-
-    private void fillTable(int own, int first, int second) {
-      tabled[own] = first != S && second != S;
-      if (!tabled[own]) {
-        return;
-      }
-      for (int a = 0; a < Ask.valuesOf(first); a++) {
+      int first = operandKinds[0];
+      int second = many == 2 ? operandKinds[1] : 0;
+      tabled[owned] = first != S && second != S;
+      for (int a = 0; tabled[owned] && a < Ask.valuesOf(first); a++) {
         for (int b = 0; b < Ask.valuesOf(second); b++) {
-          int at = own * POINTS + a * 16 + b;
-          table[at] = answerOf(terms[own], a, b, 0);
+          int at = owned * POINTS + a * 16 + b;
+          table[at] = answerOf(terms[owned], a, b, 0);
           tableWorked[at] = worked[0];
         }
       }
+      owned++;
     }
 
     /** What f stands for in the laws of an ask: a row of a table of answers. */
     void seek(Ask ask, int[] functions, int from) {
-      soughtFor = ask;
       sought = functions;
       soughtAt = from;
+      soughtSecond = ask.params > 1 ? Ask.valuesOf(ask.kinds[1]) : 1;
+      soughtThird = ask.params > 2 ? Ask.valuesOf(ask.kinds[2]) : 1;
     }
 
     /** A term's ANSWER for these values of its parameters. */
@@ -1084,19 +1070,28 @@ public final class FinderHouse {
       if (op == IF || op == PICK) {
         sum = 1 + wx + (x < 0 ? 0 : x != 0 ? wy : wz);
       }
-      if (op >= KNOWN && op < ALL) {
-        answers[base + i] = giveOwn(op - KNOWN, x, y, base + term.size, depth);
-        sum += x < 0 || y < 0 ? 0 : ownWorked(op - KNOWN, x, y, base + term.size);
-      } else {
-        answers[base + i] = op == SOUGHT ? giveSought(x, y, z) : giveKnown(op, x, y, z);
+      answers[base + i] = give(op, x, y, z, base + term.size, depth);
+      if (op >= KNOWN && op < ALL && x >= 0 && y >= 0) {
+        sum += ownWorked(op - KNOWN, x, y, base + term.size);
       }
       worked[base + i] = sum;
     }
 
-    private int giveOwn(int own, int x, int y, int base, int depth) {
-      if (x < 0 || y < 0) {
+    /** What an act gives for its operands' ANSWERS, worked out from a base on. */
+    int give(int op, int x, int y, int z, int base, int depth) {
+      if (op == IF || op == PICK) {
+        return x < 0 ? ERROR : x != 0 ? y : z;
+      }
+      if (x < 0 || y < 0 || z < 0) {
         return ERROR;
       }
+      if (op < IF) {
+        return giveNumber(op, x, y);
+      }
+      return op < KNOWN ? giveWord(op, x, y) : op < ALL ? giveOwn(op - KNOWN, x, y, base, depth) : giveSought(x, y, z);
+    }
+
+    private int giveOwn(int own, int x, int y, int base, int depth) {
       if (tabled[own]) {
         return table[own * POINTS + (x & 15) * 16 + (y & 15)];
       }
@@ -1116,88 +1111,58 @@ public final class FinderHouse {
     }
 
     private int giveSought(int x, int y, int z) {
-      if (x < 0 || y < 0 || z < 0 || soughtFor == null || sought == null) {
-        return ERROR;
-      }
-      int at = soughtAt + soughtFor.pointOf(x, y, z);
-      return at >= 0 && at < sought.length ? sought[at] : ERROR;
-    }
-
-    /** What an act gives for its operands' ANSWERS. */
-    int give(int op, int x, int y, int z) {
-      return op >= KNOWN && op < KNOWN + owned ? giveOwn(op - KNOWN, x, y, 0, 0) : giveKnown(op, x, y, z);
-    }
-
-    private static int giveKnown(int op, int x, int y, int z) {
-      if (op == IF || op == PICK) {
-        return x < 0 ? ERROR : x != 0 ? y : z;
-      }
-      if (x < 0 || y < 0 || z < 0) {
-        return ERROR;
-      }
-      return op < IF ? giveNumber(op, x, y) : giveWord(op, x, y);
+      int at = soughtAt + (x * soughtSecond + y) * soughtThird + z;
+      return sought != null && at >= 0 && at < sought.length ? sought[at] : ERROR;
     }
 
     private static int giveNumber(int op, int x, int y) {
       switch (op) {
-        case 0: return x + y & 15;
-        case 1: return x - y & 15;
-        case 2: return x * y & 15;
-        case 3: return y == 0 ? ERROR : x / y;
-        case 4: return y == 0 ? ERROR : x % y;
-        case 5: return x < y ? x : y;
-        case 6: return x > y ? x : y;
-        case 7: return x & y;
-        case 8: return x | y;
-        case 9: return x ^ y;
-        case 10: return x < y ? 1 : 0;
-        case 11: return x == y ? 1 : 0;
-        case 12: return 1 - x;
-        case 13: return x & y;
+        case ADD: return x + y & 15;
+        case SUB: return x - y & 15;
+        case MUL: return x * y & 15;
+        case DIV: return y == 0 ? ERROR : x / y;
+        case REM: return y == 0 ? ERROR : x % y;
+        case MIN: return x < y ? x : y;
+        case MAX: return x > y ? x : y;
+        case AND: return x & y;
+        case OR: return x | y;
+        case XOR: return x ^ y;
+        case LESS: return x < y ? 1 : 0;
+        case SAME: return x == y ? 1 : 0;
+        case NOT: return 1 - x;
+        case BOTH: return x & y;
         default: return x | y;
       }
     }
 
+    /** A word's letters are digits from 1 on to the base 27: it has as many as there are powers up to it. */
     private static int giveWord(int op, int x, int y) {
-      int size = sizeOf(x);
-      switch (op) {
-        case 17: return size + sizeOf(y) > 6 ? ERROR : x * powerOf(sizeOf(y)) + y;
-        case 18: return size;
-        case 19: return y >= size ? x : x / powerOf(size - y);
-        case 20: return y >= size ? 0 : x % powerOf(size - y);
-        case 21: return turned(x);
-        case 22: return size == 0 ? ERROR : x / powerOf(size - 1);
-        case 23: return x == y ? 1 : 0;
-        case 24: return size == 0 ? ERROR : x / powerOf(size - 1) - 1 & 15;
-        default: return x + 1;
-      }
-    }
-
-    /** How many letters a word has: its letters are digits from 1 on to the base 27. */
-    static int sizeOf(int word) {
       int size = 0;
-      for (int rest = word; rest > 0 && size < 6; rest /= LETTERS) {
+      while (size < 6 && x >= POWERS[size]) {
         size++;
       }
-      return size;
-    }
-
-    private static int powerOf(int digits) {
-      int power = 1;
-      for (int i = 0; i < digits && i < 6; i++) {
-        power *= LETTERS;
+      int otherSize = 0;
+      while (otherSize < 6 && y >= POWERS[otherSize]) {
+        otherSize++;
       }
-      return power;
-    }
-
-    private static int turned(int word) {
-      int other = 0;
-      int rest = word;
-      for (int i = 0; i < 6 && rest > 0; i++) {
-        other = other * LETTERS + rest % LETTERS;
+      switch (op) {
+        case CAT: return size + otherSize > 6 ? ERROR : x * POWERS[otherSize] + y;
+        case LEN: return size;
+        case TAKE: return y >= size ? x : x / POWERS[size - y];
+        case DROP: return y >= size ? 0 : x % POWERS[size - y];
+        case HEAD: return size == 0 ? ERROR : x / POWERS[size - 1];
+        case LIKE: return x == y ? 1 : 0;
+        case CODE: return size == 0 ? ERROR : x / POWERS[size - 1] - 1 & 15;
+        case SIGN: return x + 1;
+        default: break;
+      }
+      int turned = 0;
+      int rest = x;
+      for (int i = 0; i < size; i++) {
+        turned = turned * LETTERS + rest % LETTERS;
         rest /= LETTERS;
       }
-      return other;
+      return turned;
     }
 
     /** Writes a term as a text of the fewest bytes: how many. */
@@ -1239,8 +1204,10 @@ public final class FinderHouse {
         many++;
       }
       long rest = word;
-      for (int i = many - 1; i >= 0; i--) {
-        put(text, from + i, (int) (rest % LETTERS) + 'a' - 1);
+      for (int i = from + many - 1; i >= from; i--) {
+        if (i >= 0 && i < text.length) {
+          text[i] = (byte) (rest % LETTERS + 'a' - 1);
+        }
         rest /= LETTERS;
       }
       return from + many;
@@ -1299,14 +1266,6 @@ public final class FinderHouse {
       return code;
     }
 
-    private static boolean isLetter(int b) {
-      return b >= 'a' && b <= 'z';
-    }
-
-    private static boolean isDigit(int b) {
-      return b >= '0' && b <= '9';
-    }
-
     /** The name that these bytes are as a number to the base 27, or 0. */
     static long nameIn(byte[] bytes, int from, int size) {
       if (size < 1 || size > 8 || from < 0 || from + size > bytes.length) {
@@ -1314,7 +1273,7 @@ public final class FinderHouse {
       }
       long code = 0;
       for (int i = from; i < from + size; i++) {
-        if (!isLetter(bytes[i])) {
+        if (bytes[i] < 'a' || bytes[i] > 'z') {
           return 0;
         }
         code = code * LETTERS + bytes[i] - 'a' + 1;
@@ -1338,13 +1297,8 @@ public final class FinderHouse {
       next();
     }
 
-    /** The byte at a place of the text, or -1 behind it. */
-    private int byteAt(int i) {
-      return i >= 0 && i < size ? text[from + i] : -1;
-    }
-
     private void next() {
-      while (pos < size && (byteAt(pos) == ' ' || byteAt(pos) == '\n')) {
+      while (pos < size && (text[from + pos] == ' ' || text[from + pos] == '\n')) {
         pos++;
       }
       at = pos;
@@ -1352,10 +1306,10 @@ public final class FinderHouse {
         sort = END;
         return;
       }
-      int b = byteAt(pos);
-      if (isLetter(b)) {
+      int b = text[from + pos];
+      if (b >= 'a' && b <= 'z') {
         readName();
-      } else if (isDigit(b)) {
+      } else if (b >= '0' && b <= '9') {
         readNumber();
       } else if (b == '"') {
         readWord();
@@ -1365,35 +1319,36 @@ public final class FinderHouse {
     }
 
     private void readName() {
-      while (pos < size && isLetter(byteAt(pos))) {
+      name = 0;
+      while (pos < size && text[from + pos] >= 'a' && text[from + pos] <= 'z') {
+        name = name * LETTERS + text[from + pos] - 'a' + 1;
         pos++;
       }
-      name = nameIn(text, from + at, pos - at);
-      sort = name != 0 ? NAME : BAD;
+      sort = pos - at <= 8 ? NAME : BAD;
     }
 
     private void readNumber() {
       number = 0;
-      while (pos < size && isDigit(byteAt(pos))) {
-        number = pos - at < 2 ? number * 10 + byteAt(pos) - '0' : 16;
+      while (pos < size && text[from + pos] >= '0' && text[from + pos] <= '9') {
+        number = pos - at < 2 ? number * 10 + text[from + pos] - '0' : 16;
         pos++;
       }
-      sort = number <= 15 && pos - at <= 2 ? NUMBER : BAD;
+      sort = number <= 15 ? NUMBER : BAD;
     }
 
     private void readWord() {
       number = 0;
       pos++;
-      while (pos < size && isLetter(byteAt(pos)) && pos - at <= 6) {
-        number = number * LETTERS + byteAt(pos) - 'a' + 1;
+      while (pos < size && pos - at <= 6 && text[from + pos] >= 'a' && text[from + pos] <= 'z') {
+        number = number * LETTERS + text[from + pos] - 'a' + 1;
         pos++;
       }
-      sort = byteAt(pos) == '"' ? WORD : BAD;
+      sort = pos < size && text[from + pos] == '"' ? WORD : BAD;
       pos++;
     }
 
     private void readSign(int b) {
-      boolean arrow = b == '-' && byteAt(pos + 1) == '>';
+      boolean arrow = b == '-' && pos + 1 < size && text[from + pos + 1] == '>';
       boolean sign = b == '(' || b == ')' || b == ',' || b == ';' || b == ':' || b == '=' || b == '?';
       sort = arrow ? ARROW : sign ? b : BAD;
       pos += arrow ? 2 : 1;
@@ -1538,7 +1493,9 @@ public final class FinderHouse {
         return true;
       }
       if (sort == '?' && holes != NO_HOLES) {
-        return readHole();
+        addHole();
+        next();
+        return true;
       }
       if (sort != NAME) {
         return stop();
@@ -1553,15 +1510,13 @@ public final class FinderHouse {
       return true;
     }
 
-    private boolean readHole() {
+    private void addHole() {
       nodes.add(Acts.HOLE, 0);
       holes++;
       if (holes == 4) {
         note(at, 5);
       }
       kind = N;
-      next();
-      return true;
     }
 
     private void readParameter(long named, int place) {
@@ -1598,9 +1553,10 @@ public final class FinderHouse {
         sum += weight;
         many++;
       } while (sort == ',' && many < TAPE);
-      if (!take(')')) {
-        return false;
+      if (sort != ')') {
+        return stop();
       }
+      next();
       nodes.close(node);
       if (op >= 0 && many != arityOf(op)) {
         note(place, 4);
@@ -2039,19 +1995,11 @@ public final class FinderHouse {
       }
       acts.seek(this, answers, from);
       for (int law = 0; law < laws; law++) {
-        if (!holds(acts, law)) {
-          return false;
-        }
-      }
-      return true;
-    }
-
-    private boolean holds(Acts acts, int law) {
-      int many = lawNames[law] == 2 ? valuesOf(lawKinds[law * 2 + 1]) : 1;
-      for (int x = 0; x < valuesOf(lawKinds[law * 2]); x++) {
-        for (int y = 0; y < many; y++) {
-          int first = acts.answerOf(sides[law * 2], x, y, 0);
-          if (first != acts.answerOf(sides[law * 2 + 1], x, y, 0)) {
+        int second = lawNames[law] == 2 ? valuesOf(lawKinds[law * 2 + 1]) : 1;
+        int all = valuesOf(lawKinds[law * 2]) * second;
+        for (int i = 0; i < all; i++) {
+          int first = acts.answerOf(sides[law * 2], i / second, i % second, 0);
+          if (first != acts.answerOf(sides[law * 2 + 1], i / second, i % second, 0)) {
             return false;
           }
         }
@@ -2140,13 +2088,22 @@ public final class FinderHouse {
       boolean three = op == Acts.IF || op == Acts.PICK;
       int at = three ? slabPlace(first, second) + third : (j * SPAN + first) * SPAN + second;
       byte[] known = three ? slabs : pairs;
-      if (at < 0 || at >= known.length) {
-        return workedOut(op, first, second, third);
+      boolean remembered = at >= 0 && at < known.length;
+      if (remembered && known[at] != 0) {
+        return known[at] - 1;
       }
-      if (known[at] == 0) {
-        known[at] = (byte) (workedOut(op, first, second, third) + 1);
+      int to = many * POINTS;
+      int y = acts.arity[op] > 1 ? second * POINTS : to;
+      int z = three ? third * POINTS : to;
+      Arrays.fill(table, to, to + ask.points, 0);
+      for (int i = 0; i < ask.points; i++) {
+        table[to + i] = acts.give(op, table[first * POINTS + i], table[y + i], table[z + i], 0, 0);
       }
-      return known[at] - 1;
+      int function = enter(acts.kinds[op * 4 + 3]);
+      if (remembered) {
+        known[at] = (byte) (function + 1);
+      }
+      return function;
     }
 
     /** Where the slab of two functions begins; it is made where there is none. */
@@ -2164,18 +2121,6 @@ public final class FinderHouse {
         slabOf[at] = (short) slabCount;
       }
       return (slabOf[at] - 1) * SPAN;
-    }
-
-    private int workedOut(int op, int first, int second, int third) {
-      int to = many * POINTS;
-      int x = first * POINTS;
-      int y = second * POINTS;
-      int z = third * POINTS;
-      int arity = acts.arity[op];
-      for (int i = 0; i < ask.points; i++) {
-        table[to + i] = acts.give(op, table[x + i], arity > 1 ? table[y + i] : 0, arity > 2 ? table[z + i] : 0);
-      }
-      return enter(acts.kinds[op * 4 + 3]);
     }
 
     /** The number of the function in the row behind all; it becomes a new one if there is none such. */
@@ -2208,21 +2153,16 @@ public final class FinderHouse {
       int slot = h & POINTS - 1;
       for (int tries = 0; tries < POINTS && slots[slot] != 0; tries++) {
         int other = slots[slot] - 1;
-        if (hash[other] == h && kind[other] == itsKind && isSameRow(other)) {
+        int alike = hash[other] == h && kind[other] == itsKind ? 0 : -1;
+        while (alike >= 0 && alike < ask.points && table[other * POINTS + alike] == table[many * POINTS + alike]) {
+          alike++;
+        }
+        if (alike == ask.points) {
           return slot;
         }
         slot = slot + 1 & POINTS - 1;
       }
       return slot;
-    }
-
-    private boolean isSameRow(int other) {
-      for (int i = 0; i < ask.points; i++) {
-        if (table[other * POINTS + i] != table[many * POINTS + i]) {
-          return false;
-        }
-      }
-      return true;
     }
   }
 
@@ -2311,7 +2251,9 @@ public final class FinderHouse {
       int op = ask.pieceOp[j];
       int arity = acts.arity[op];
       if (k >= arity || k >= 3) {
-        return enter(q, PARAMS + j, functionOfPicked(j, arity), terms);
+        int second = arity > 1 ? functionOf(picked[1]) : 0;
+        int third = arity > 2 ? functionOf(picked[2]) : 0;
+        return enter(q, PARAMS + j, functions.of(j, functionOf(picked[0]), second, third), terms);
       }
       int behind = arity - 1 - k;
       for (int x = behind == 0 ? rest : 1; x >= 1 && x <= rest - behind; x++) {
@@ -2327,12 +2269,6 @@ public final class FinderHouse {
         }
       }
       return true;
-    }
-
-    private int functionOfPicked(int j, int arity) {
-      int second = arity > 1 ? functionOf(picked[1]) : 0;
-      int third = arity > 2 ? functionOf(picked[2]) : 0;
-      return functions.of(j, functionOf(picked[0]), second, third);
     }
 
     /** Adds terms of a function to those of a price; what comes first is remembered. */
@@ -2738,7 +2674,7 @@ public final class FinderHouse {
           int x = operandAt(told, above, first, at, i);
           int y = operandAt(told, above, second, at, i);
           int z = operandAt(told, above, third, at, i);
-          trial[i] = acts.give(op, x, y, z);
+          trial[i] = acts.give(op, x, y, z, 0, 0);
         }
         at = above;
       }
@@ -2837,22 +2773,13 @@ public final class FinderHouse {
     int findBest() {
       int most = 0;
       for (int k = 0; k < keptCount; k++) {
-        for (int i = 0; i < kept[k].size; i++) {
-          if (kept[k].op[i] < Acts.LEAF) {
-            most = bestWith(k, i, most);
-          }
-        }
-      }
-      return most;
-    }
-
-    /** Tries the patterns of one place with all behind it. */
-    private int bestWith(int k, int i, int before) {
-      int most = before;
-      for (int l = k; l < keptCount; l++) {
-        for (int j = l == k ? i + 1 : 0; j < kept[l].size; j++) {
-          if (kept[l].op[j] == kept[k].op[i] && isPattern(kept[k], i, kept[l], j)) {
-            most = compareWithBest(most);
+        for (int l = k; l < keptCount; l++) {
+          for (int i = 0; i < kept[k].size; i++) {
+            for (int j = l == k ? i + 1 : 0; j < kept[l].size; j++) {
+              if (kept[k].op[i] == kept[l].op[j] && isPattern(kept[k], i, kept[l], j)) {
+                most = takeBest(savingOf(), most);
+              }
+            }
           }
         }
       }
@@ -2862,6 +2789,9 @@ public final class FinderHouse {
     private boolean isPattern(Term x, int i, Term y, int j) {
       pattern.size = 0;
       patternParams = 0;
+      if (x.op[i] >= Acts.LEAF) {
+        return false;
+      }
       if (!generalize(x, i, y, j, 0) || patternParams < 1 || acts.weightOf(pattern) > WEIGHT) {
         return false;
       }
@@ -2918,8 +2848,7 @@ public final class FinderHouse {
     }
 
     /** Makes the pattern the best one if it is: what the best one saves. */
-    private int compareWithBest(int most) {
-      int saving = savingOf();
+    private int takeBest(int saving, int most) {
       if (saving < 1 || saving < most) {
         return most;
       }
@@ -3024,7 +2953,7 @@ public final class FinderHouse {
     private static final int STATES = 4096;
     /** How a run goes on from a STATE: to another one, or so. */
     private static final int ENDS = -1, FAILS = -2;
-    private static final int ENDLESS = 0, ENDED = 1, FAILED = 2;
+    private static final int UNMET = -1, ENDLESS = 0, ENDED = 1, FAILED = 2;
 
     private final Acts acts;
     boolean there;
@@ -3043,7 +2972,6 @@ public final class FinderHouse {
     private final int[] outcome = new int[STATES];
     private final int[] meetings = new int[STATES];
     private final int[] given = new int[STATES];
-    private final boolean[] isMet = new boolean[STATES];
     /** The STATES of the run that is followed, and the place of each one in it, from 1 on. */
     private final int[] path = new int[STATES];
     private final int[] placeOf = new int[STATES];
@@ -3081,7 +3009,7 @@ public final class FinderHouse {
       int second = newInputs == 2 ? Ask.valuesOf(newKinds[1]) : 1;
       inputs = Ask.valuesOf(newKinds[0]) * second;
       met = 0;
-      Arrays.fill(isMet, false);
+      Arrays.fill(outcome, UNMET);
       Arrays.fill(placeOf, 0);
       for (int i = 0; i < inputs && i < POINTS; i++) {
         firstState[i] = stateFrom(FROM, i / second, i % second, 0);
@@ -3111,30 +3039,29 @@ public final class FinderHouse {
     private void follow(int first) {
       int size = 0;
       int state = first;
-      while (state >= 0 && size < STATES && !isMet[state] && placeOf[state] == 0) {
+      while (state >= 0 && size < STATES && outcome[state] == UNMET && placeOf[state] == 0) {
         path[size] = state;
         size++;
         placeOf[state] = size;
         goesOn[state] = goOn(state);
         state = goesOn[state];
       }
-      int end = state == ENDS ? ENDED : state == FAILS ? FAILED : isMet[state] ? outcome[state] : ENDLESS;
-      boolean circle = state >= 0 && !isMet[state];
-      int circleFrom = circle ? placeOf[state] - 1 : size;
-      int behind = state >= 0 && isMet[state] ? meetings[state] : 0;
-      int answer = end != ENDED ? ERROR : state >= 0 ? given[state] : given[path[size > 0 ? size - 1 : 0]];
-      if (end == ENDED && answer < 0) {
-        end = FAILED;
+      int end = state == ENDS ? ENDED : state == FAILS ? FAILED : ENDLESS;
+      int answer = state == ENDS && size > 0 ? given[path[size - 1]] : ERROR;
+      int behind = 0;
+      int circle = state >= 0 && placeOf[state] > 0 ? placeOf[state] - 1 : size;
+      if (state >= 0 && outcome[state] != UNMET) {
+        end = outcome[state];
+        answer = given[state];
+        behind = meetings[state];
       }
       for (int i = 0; i < size; i++) {
-        int each = path[i];
-        isMet[each] = true;
-        placeOf[each] = 0;
-        outcome[each] = end;
-        given[each] = answer;
-        meetings[each] = i >= circleFrom ? size - circleFrom : size - i + behind;
-        met++;
+        outcome[path[i]] = end;
+        given[path[i]] = answer;
+        meetings[path[i]] = size - Math.min(i, circle) + behind;
+        placeOf[path[i]] = 0;
       }
+      met += size;
     }
 
     private int goOn(int state) {
@@ -3168,7 +3095,7 @@ public final class FinderHouse {
       int found = NONE;
       for (int state = 0; state < STATES; state++) {
         int val = state >> 4 * (2 - v) & 15;
-        if (isMet[state] && (found == NONE || (what == 0 ? val < found : val > found))) {
+        if (outcome[state] != UNMET && (found == NONE || (what == 0 ? val < found : val > found))) {
           found = val;
         }
       }
@@ -3419,9 +3346,13 @@ public final class FinderHouse {
       return true;
     }
 
+    private static int sizeOf(int word) {
+      return word < LETTERS ? 1 : word < LETTERS * LETTERS ? 2 : 3;
+    }
+
     private static int priceOfPart(int part) {
       if (part < 0) {
-        return 2 * Acts.sizeOf(-1 - part);
+        return 2 * sizeOf(-1 - part);
       }
       return priceOfSpot(part / SPOTS) + priceOfSpot(part % SPOTS);
     }
@@ -3542,7 +3473,7 @@ public final class FinderHouse {
     }
 
     private int addLetters(int word, int from) {
-      int size = Acts.sizeOf(word);
+      int size = sizeOf(word);
       int rest = word;
       for (int i = size - 1; i >= 0; i--) {
         made[from + i] = (byte) (rest % LETTERS + 'a' - 1);
@@ -3814,8 +3745,6 @@ public final class FinderHouse {
     /** How many blocks are written before power goes, or -1; and how many bytes of the next one. */
     int cutAt = -1;
     int tear;
-    /** The last block of the sync that was gathered last. */
-    int gathered;
 
     boolean has(int block, int i) {
       return block >= 1 && block <= BLOCKS && i >= 0 && i < SIZE;
@@ -3933,17 +3862,10 @@ public final class FinderHouse {
       }
     }
 
-    /** Gathers the records' bytes of the sync that begins at a block. */
-    void gatherSync(int block) {
-      forgetWaiting();
-      gathered = block;
-      for (int b = block; b >= 1 && b <= BLOCKS; b++) {
-        putAll(blocks, at(b, 3), blocks[at(b, 2)] & 255);
-        gathered = b;
-        if (blocks[at(b, 1)] == 1) {
-          break;
-        }
-      }
+    /** Gathers the records' bytes of a block behind those before: whether it is the last one of its sync. */
+    boolean gather(int block) {
+      putAll(blocks, at(block, 3), blocks[at(block, 2)] & 255);
+      return blocks[at(block, 1)] == 1;
     }
   }
 }
