@@ -904,8 +904,9 @@ public final class FinderHouse {
     static final int SOUGHT = 38;
     static final String NAMES = "add sub mul div rem min max and or xor less same not both any if pick cat len take drop rev head like code sign ";
     static final String KINDS = "nnn nnn nnn nnn nnn nnn nnn nnn nnn nnn nnt nnt tt ttt ttt tnnn tsss sss sn sns sns ss ss sst sn ns ";
-    /** The terms that can be worked out within one another: a told one and all own ones. */
-    private static final int ROOMS = 160 + OWN_ACTS * TERM_SIZE;
+    /** The terms that can be worked out within one another: a law's side, a told one and all own ones. */
+    private static final int NESTED = OWN_ACTS + 1;
+    private static final int ROOMS = (NESTED + 1) * TERM_SIZE;
 
     final long[] names = new long[ALL];
     /** Of each act the kinds of its three operands, 0 for none, and its own. */
@@ -920,7 +921,8 @@ public final class FinderHouse {
     private final int[] tableWorked = new int[OWN_ACTS * POINTS];
     private final int[] answers = new int[ROOMS];
     private final int[] worked = new int[ROOMS];
-    /** What f gives while laws are looked at: where its answers begin, and how many values its second and third operands have. */
+    /** What f stands for while laws are looked at: a term, or answers from a place on, by its operands' numbers of values. */
+    private Term soughtTerm;
     private int[] sought;
     private int soughtAt;
     private int soughtSecond;
@@ -1008,10 +1010,16 @@ public final class FinderHouse {
 
     /** What f stands for in the laws of an ask: a row of a table of answers. */
     void seek(Ask ask, int[] functions, int from) {
+      soughtTerm = null;
       sought = functions;
       soughtAt = from;
       soughtSecond = ask.params > 1 ? Ask.valuesOf(ask.kinds[1]) : 1;
       soughtThird = ask.params > 2 ? Ask.valuesOf(ask.kinds[2]) : 1;
+    }
+
+    /** f stands for a term: where laws fail early, few of its answers are wanted. */
+    void seekTerm(Term term) {
+      soughtTerm = term;
     }
 
     /** A term's ANSWER for these values of its parameters. */
@@ -1038,7 +1046,7 @@ public final class FinderHouse {
      * out, too, as it changes no answer; but it is not counted.
      */
     private void workOut(Term term, int base, int a, int b, int c, int depth) {
-      if (depth > OWN_ACTS || base + term.size > ROOMS) {
+      if (depth > NESTED || base + term.size > ROOMS) {
         return;
       }
       for (int i = term.size - 1; i >= 0; i--) {
@@ -1088,17 +1096,20 @@ public final class FinderHouse {
       if (op < IF) {
         return giveNumber(op, x, y);
       }
-      return op < KNOWN ? giveWord(op, x, y) : op < ALL ? giveOwn(op - KNOWN, x, y, base, depth) : giveSought(x, y, z);
-    }
-
-    private int giveOwn(int own, int x, int y, int base, int depth) {
-      if (tabled[own]) {
-        return table[own * POINTS + (x & 15) * 16 + (y & 15)];
+      if (op < KNOWN) {
+        return giveWord(op, x, y);
       }
-      if (depth >= OWN_ACTS || base >= ROOMS) {
+      if (op < ALL && tabled[op - KNOWN]) {
+        return table[(op - KNOWN) * POINTS + (x & 15) * 16 + (y & 15)];
+      }
+      if (op == SOUGHT && soughtTerm == null) {
+        int at = soughtAt + (x * soughtSecond + y) * soughtThird + z;
+        return sought != null && at >= 0 && at < sought.length ? sought[at] : ERROR;
+      }
+      if (depth >= NESTED || base >= ROOMS) {
         return ERROR;
       }
-      workOut(terms[own], base, x, y, 0, depth + 1);
+      workOut(op < ALL ? terms[op - KNOWN] : soughtTerm, base, x, y, z, depth + 1);
       return answers[base];
     }
 
@@ -1108,11 +1119,6 @@ public final class FinderHouse {
         return tableWorked[own * POINTS + (x & 15) * 16 + (y & 15)];
       }
       return base < ROOMS ? worked[base] : 0;
-    }
-
-    private int giveSought(int x, int y, int z) {
-      int at = soughtAt + (x * soughtSecond + y) * soughtThird + z;
-      return sought != null && at >= 0 && at < sought.length ? sought[at] : ERROR;
     }
 
     private static int giveNumber(int op, int x, int y) {
@@ -1986,14 +1992,18 @@ public final class FinderHouse {
       return acts.answerOf(term, pointValues[i], pointValues[POINTS + i], pointValues[2 * POINTS + i]);
     }
 
-    /** Whether a row of answers at all points meets the ask. */
-    boolean isMetBy(Acts acts, int[] answers, int from) {
+    /** Whether answers at all points are as the rows tell. */
+    boolean hasRowsMet(int[] answers, int from) {
       for (int r = 0; r < rows; r++) {
         if (answers[from + rowPoint[r]] != rowAnswer[r]) {
           return false;
         }
       }
-      acts.seek(this, answers, from);
+      return true;
+    }
+
+    /** Whether all laws hold for what f stands for now. */
+    boolean hasLawsMet(Acts acts) {
       for (int law = 0; law < laws; law++) {
         int second = lawNames[law] == 2 ? valuesOf(lawKinds[law * 2 + 1]) : 1;
         int all = valuesOf(lawKinds[law * 2]) * second;
@@ -2311,7 +2321,8 @@ public final class FinderHouse {
         return false;
       }
       if (meeting[function] == 0) {
-        meeting[function] = ask.isMetBy(acts, functions.table, function * POINTS) ? 1 : 2;
+        acts.seek(ask, functions.table, function * POINTS);
+        meeting[function] = ask.hasRowsMet(functions.table, function * POINTS) && ask.hasLawsMet(acts) ? 1 : 2;
       }
       return meeting[function] == 1;
     }
@@ -2398,9 +2409,7 @@ public final class FinderHouse {
 
     /** The entry of the first term in ORDER with the function of a told term of the ask, or -1. */
     int firstAlike(Term told, int kind) {
-      for (int i = 0; i < ask.points; i++) {
-        trial[i] = ask.answerAt(acts, told, i);
-      }
+      fillTrial(told);
       int function = functions.alike(trial, kind);
       return function < 0 ? -1 : firstEntry[function];
     }
@@ -2573,28 +2582,29 @@ public final class FinderHouse {
         for (int k = 0; k < many; k++) {
           sketch.val[picked[k]] = numbers >> 4 * (many - 1 - k) & 15;
         }
-        if (meetsRows(sketch) && meetsAll(sketch)) {
+        if (meets(sketch)) {
+          fillTrial(sketch);
           return numbers;
         }
       }
       return NO_NUMBERS;
     }
 
-    /** Most that do not meet fail at the rows, which are few. */
-    private boolean meetsRows(Term told) {
+    /** Most sketches that do not meet fail at the rows or early in a law: only what is wanted is worked out. */
+    private boolean meets(Term sketch) {
       for (int r = 0; r < ask.rows; r++) {
-        if (ask.answerAt(acts, told, ask.rowPoint[r]) != ask.rowAnswer[r]) {
+        if (ask.answerAt(acts, sketch, ask.rowPoint[r]) != ask.rowAnswer[r]) {
           return false;
         }
       }
-      return true;
+      acts.seekTerm(sketch);
+      return ask.hasLawsMet(acts);
     }
 
-    private boolean meetsAll(Term told) {
+    private void fillTrial(Term told) {
       for (int i = 0; i < ask.points; i++) {
         trial[i] = ask.answerAt(acts, told, i);
       }
-      return ask.isMetBy(acts, trial, 0);
     }
 
     /** Whether a told term meets; the answers of all terms within it are remembered. */
@@ -2605,7 +2615,8 @@ public final class FinderHouse {
           within[node * POINTS + i] = acts.answerWithin(node);
         }
       }
-      return ask.isMetBy(acts, trial, 0);
+      acts.seek(ask, trial, 0);
+      return ask.hasRowsMet(trial, 0) && ask.hasLawsMet(acts);
     }
 
     /** Mends the told term that was looked at last: the entry of what is put in, or -1. */
@@ -2654,7 +2665,8 @@ public final class FinderHouse {
         }
       }
       climb(told, place, function, 0, ask.points);
-      return ask.isMetBy(acts, trial, 0);
+      acts.seek(ask, trial, 0);
+      return ask.hasLawsMet(acts);
     }
 
     /** The told term's answers at some points, with a function at one of its places: only what is above that place changes. */
