@@ -80,11 +80,10 @@ final class House {
     return x.word(good);
   }
 
-  /** What the program gives for a word, or the refusal as a text. */
-  String apply(String in) {
+  /** How many letters the program gives for a word, or the refusal. */
+  int apply(String in) {
     tape(in);
-    int size = x.apply();
-    return size < 0 ? "" + size : "" + size;
+    return x.apply();
   }
 
   /** THE TERM's text. */
