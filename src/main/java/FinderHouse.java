@@ -1086,7 +1086,7 @@ public final class FinderHouse {
     }
 
     /** What an act gives for its operands' ANSWERS, worked out from a base on. */
-    int give(int op, int x, int y, int z, int base, int depth) {
+    private int give(int op, int x, int y, int z, int base, int depth) {
       if (op == IF || op == PICK) {
         return x < 0 ? ERROR : x != 0 ? y : z;
       }
@@ -2051,6 +2051,8 @@ public final class FinderHouse {
     /** Where a hash leads: a function's number and 1, or 0. */
     private final int[] slots = new int[POINTS];
     int many;
+    /** How many pieces the ask has: all that was remembered is forgotten with the next one. */
+    private int pieces;
     /** What a piece gives for one or two functions: its number and 1, or 0 if it is not known yet. */
     private final byte[] pairs = new byte[Ask.PIECES * SPAN * SPAN];
     /** For if and pick: the slab of a condition and what follows, and in it what comes of the third. */
@@ -2063,12 +2065,15 @@ public final class FinderHouse {
     }
 
     void begin(Ask newAsk) {
-      int used = many < MOST ? many + 1 : SPAN;
-      for (int j = 0; j < Ask.PIECES; j++) {
-        Arrays.fill(pairs, j * SPAN * SPAN, j * SPAN * SPAN + used * SPAN, (byte) 0);
+      for (int i = 0; i < many * many; i++) {
+        int at = i / many * SPAN + i % many;
+        slabOf[at] = 0;
+        for (int j = 0; j < pieces; j++) {
+          pairs[j * SPAN * SPAN + at] = 0;
+        }
       }
-      Arrays.fill(slabOf, 0, used * SPAN, (short) 0);
       Arrays.fill(slots, 0);
+      pieces = newAsk.pieces;
       slabCount = 0;
       many = 0;
       ask = newAsk;
@@ -2082,7 +2087,9 @@ public final class FinderHouse {
 
     /** The function of a piece that is a value. */
     int ofValue(int j) {
-      Arrays.fill(table, many * POINTS, many * POINTS + ask.points, ask.pieceVal[j]);
+      for (int i = 0; i < ask.points; i++) {
+        table[many * POINTS + i] = ask.pieceVal[j];
+      }
       return enter(ask.pieceOp[j] - Acts.NUMBER + 1);
     }
 
@@ -2102,12 +2109,11 @@ public final class FinderHouse {
       if (remembered && known[at] != 0) {
         return known[at] - 1;
       }
-      int to = many * POINTS;
-      int y = acts.arity[op] > 1 ? second * POINTS : to;
-      int z = three ? third * POINTS : to;
-      Arrays.fill(table, to, to + ask.points, 0);
+      boolean two = acts.arity[op] > 1;
       for (int i = 0; i < ask.points; i++) {
-        table[to + i] = acts.give(op, table[first * POINTS + i], table[y + i], table[z + i], 0, 0);
+        int y = two ? table[second * POINTS + i] : 0;
+        int z = three ? table[third * POINTS + i] : 0;
+        table[many * POINTS + i] = acts.give(op, table[first * POINTS + i], y, z, 0, 0);
       }
       int function = enter(acts.kinds[op * 4 + 3]);
       if (remembered) {
@@ -2126,7 +2132,9 @@ public final class FinderHouse {
         if (slabCount >= SLABS) {
           return -SPAN;
         }
-        Arrays.fill(slabs, slabCount * SPAN, slabCount * SPAN + SPAN, (byte) 0);
+        for (int i = 0; i < SPAN; i++) {
+          slabs[slabCount * SPAN + i] = 0;
+        }
         slabCount++;
         slabOf[at] = (short) slabCount;
       }
@@ -2526,7 +2534,9 @@ public final class FinderHouse {
       int below = (depth + 1) * SPAN;
       for (int x = behind == 0 ? rest : 1; x >= 1 && x <= rest - behind; x++) {
         long sum = 0;
-        Arrays.fill(shares, below, below + SPAN, 0L);
+        for (int f = 0; f < functions.many; f++) {
+          shares[below + f] = 0;
+        }
         for (int i = 0; i < entryCount[x]; i++) {
           int function = functionOf(x * SPAN + i);
           if (functions.kind[function] == acts.kinds[op * 4 + k]) {
@@ -3840,7 +3850,8 @@ public final class FinderHouse {
     }
 
     private static int addToSum(int sum, int octet) {
-      return Integer.rotateLeft(sum ^ octet, 5) * 0x9E3779B1;
+      int mixed = sum ^ octet;
+      return (mixed << 5 | mixed >>> 27) * 0x9E3779B1;
     }
 
     private boolean isRight(int block) {
