@@ -1106,10 +1106,11 @@ public final class FinderHouse {
         int at = soughtAt + (x * soughtSecond + y) * soughtThird + z;
         return sought != null && at >= 0 && at < sought.length ? sought[at] : ERROR;
       }
-      if (depth >= NESTED || base >= ROOMS) {
+      Term inner = op < ALL ? terms[op - KNOWN] : soughtTerm;
+      if (inner == null || depth >= NESTED || base >= ROOMS) {
         return ERROR;
       }
-      workOut(op < ALL ? terms[op - KNOWN] : soughtTerm, base, x, y, z, depth + 1);
+      workOut(inner, base, x, y, z, depth + 1);
       return answers[base];
     }
 
