@@ -59,6 +59,9 @@ public final class AskTest {
     h.fault("no kinds", h.ask("find -> n; use 1;"), 1, 5);
     h.fault("another kind", h.ask("find x -> n; use 1;"), 1, 5);
     h.fault("four kinds", h.ask("find n n n n -> n; use 1;"), 1, 11);
+    h.fault("a word for ->", h.ask("find n \"ab\" n; use 1;"), 1, 7);
+    h.fault("a number for a kind", h.ask("find 1 -> n; use 1;"), 1, 5);
+    h.fault("a -> for a value", h.ask("find n -> n; use ->;"), 1, 17);
     h.fault("two last kinds", h.ask("find n -> n n; use 1;"), 1, 12);
     h.fault("more must come", h.ask("find n -> n; use 1"), 1, 18);
     h.fault("more must come behind blanks", h.ask("find n -> n; use 1  "), 1, 20);

@@ -327,6 +327,9 @@ public final class DiskTest {
         startWith(h, record(5, ""), record(7, ""), record(4, "\001b"), record(5, "x"), record(7, "x")), 3);
     House.due("the word stays", h.x.told(3), 1);
     h = new House();
+    House.due("a record without bytes at the end", startWith(h, record(4, "\001b"), record(5, "")), 2);
+    House.due("no word stays", h.x.told(3), 0);
+    h = new House();
     House.due("rows: good, no OUT, a long IN, more than there is, a wrong letter, none",
         startWith(h, record(6, "\001ab"), record(6, "\002ab"), record(6, "\013abcdefghijkl"), record(6, "\004ab"), record(6, "\001aB"), record(6, "")), 1);
     House.due("one row", h.x.told(2), 1);
@@ -336,12 +339,18 @@ public final class DiskTest {
             record(2, "\001xa"), record(2, "\003nn"), record(2, "\001nb")), 2);
     House.due("as a text of the fewest bytes", h.kept(1), "add(a,1)");
     h = new House();
+    House.due("terms of all kinds, and of three parameters",
+        startWith(h, record(2, "\003tnsnot(a)"), record(2, "\001srev(a)"), record(2, "\003nnsadd(b,len(c))"), record(2, "\001n5"), record(2, "\001n")), 4);
+    House.due("kept", h.kept(0) + h.kept(1) + h.kept(2) + h.kept(3), "not(a)rev(a)add(b,len(c))5");
+    h = new House();
     House.due("names: nothing is kept, no name", startWith(h, record(3, "abc"), record(3, "")), 0);
     h = new House();
     String size = "add(a,".repeat(7) + "a" + ")".repeat(7);
     House.due("a term of 31 and one of 29",
         startWith(h, record(2, "\001nadd(" + size + "," + size + ")"), record(2, "\001nadd(" + size + ",add(1,add(a,add(2,add(a,add(3,add(4,a)))))))")), 1);
     House.due("one is kept", h.x.told(1), 1);
+    h = new House();
+    House.due("a term of 30", startWith(h, record(2, "\001nnot(same(" + size + "," + size.substring(6, size.length() - 1) + "))")), 1);
     h = new House();
     House.due("2000 bytes are as told", startWith(h, record(1, longAct("fits", 2000))), 1);
     h = new House();
@@ -425,69 +434,76 @@ public final class DiskTest {
     House.due("two are used", h.x.told(6), 2);
   }
 
-  private static void room() {
+  /** What can be recorded: its number, and how many bytes its record has. */
+  private static final int[][] RECORDS = {{1, 3 + 18}, {2, 3 + 1 + 1 + 8}, {3, 3 + 4}, {4, 3 + 1 + 8}, {5, 3}, {6, 3 + 1 + 20}, {7, 3}};
+
+  private static int call(House h, int number) {
+    switch (number) {
+      case 1: return h.act("act last n -> n =1");
+      case 2: return h.x.keep();
+      case 3: return h.learn("last");
+      case 4: return h.word("bbbbbbbb", true);
+      case 5: return h.x.forget();
+      case 6: return h.example("abcdefghij", "klmnopqrst");
+      default: return h.x.clear();
+    }
+  }
+
+  /** A house whose last block is left, with records that wait for all of it but so many bytes. */
+  private static House almostFull(int left) {
     House h = new House();
-    for (int i = 0; i < 10; i++) {
-      h.act(longAct("g" + (char) ('a' + i), 2000));
+    h.ask("find n -> n; use add, 1;");
+    h.mend("add(1,add(1,add(1,add(1,a))))", 1);
+    h.x.keep();
+    h.mend("add(a,1)", 1);
+    h.example("a", "a");
+    h.x.sync();
+    h.x.end(0);
+    for (int i = 0; h.x.told(6) < 199 && i < 200; i++) {
+      House.due("a block each", (i % 2 == 0 ? h.x.word(true) : h.x.forget()) >= 0 ? h.x.sync() : -1, 1);
     }
-    House.due("bytes of ten acts", h.x.told(5), 20030);
-    House.due("they are written", h.x.sync(), 166);
-    for (int i = 0; i < 8; i++) {
-      h.example("abcdefghij", "abcdefghij");
-    }
-    int bytes = 8 * 24;
-    int room = (200 - 166) * 121;
-    while (bytes + 3 <= room) {
-      if (h.x.clear() > 0) {
-        bytes += 3;
+    int bytes = 121 - left;
+    for (int i = 0; bytes > 0; i++) {
+      int size = bytes <= 12 ? bytes : bytes < 17 ? bytes - 5 : 12;
+      StringBuilder word = new StringBuilder("a".repeat(size - 4));
+      for (int k = 0; k < 4 && k < word.length(); k++) {
+        word.setCharAt(k, (i >> k & 1) == 1 ? 'b' : 'a');
       }
-      for (int i = 0; i < 8 && bytes + 24 <= room; i++) {
-        if (h.example("abcdefghij", "abcdefghij") < 0) {
-          House.due("there should be room", 1, 0);
-          return;
-        }
-        bytes += 24;
-      }
-      if (bytes + 24 > room) {
-        break;
-      }
+      House.due("a word of " + size, h.word(word.toString(), false) > 0 ? 1 : 0, 1);
+      bytes -= size;
     }
-    House.due("bytes that wait", h.x.told(5), bytes);
-    if (h.x.told(2) < 8) {
-      House.due("no room for a row", h.example("abcdefghij", "abcdefghij"), -3);
-    }
-    while (bytes + 3 + 9 <= room) {
-      h.word("abababab", true);
-      bytes += 12;
-      if (bytes + 3 <= room) {
-        h.x.forget();
-        bytes += 3;
+    House.due("bytes that wait", h.x.told(5), 121 - left);
+    return h;
+  }
+
+  private static void room() {
+    for (int[] each : RECORDS) {
+      House fits = almostFull(each[1]);
+      House.due("record " + each[0] + " fits", call(fits, each[0]) >= 0 ? 1 : 0, 1);
+      House.due("record " + each[0] + " fills the block", fits.x.told(5), 121);
+      House.due("nothing more waits", call(fits, 2), FinderHouse.ROOM);
+      House.due("the last block", fits.x.sync(), 1);
+      House.due("all are used", fits.x.told(6), 200);
+      House.due("nothing can wait", call(fits, 6), FinderHouse.ROOM);
+      House.due("sync of nothing", fits.x.sync(), 0);
+      House full = almostFull(each[1] - 1);
+      int[] before = new int[6];
+      for (int what = 0; what < 6; what++) {
+        before[what] = full.x.told(what);
       }
-    }
-    while (bytes + 4 <= room) {
-      h.word("", true);
-      bytes += 4;
-      if (bytes + 3 <= room) {
-        h.x.forget();
-        bytes += 3;
+      House.due("record " + each[0] + " has no room", call(full, each[0]), FinderHouse.ROOM);
+      for (int what = 0; what < 6; what++) {
+        House.due("what is refused changes nothing", full.x.told(what), before[what]);
       }
+      House.due("the kept term is as it was", full.kept(0), "add(1,add(1,add(1,add(1,a))))");
+      House.due("the tape is used up", full.x.told(7), 0);
     }
-    House.due("bytes that wait", h.x.told(5), bytes);
-    House.due("no room for a word", h.word("bbbbbbbb", false), -3);
-    House.due("what was refused is not there", h.x.told(5), bytes);
-    h.ask("find n -> n; use 1;");
-    h.x.find(1);
-    House.due("no room to keep", h.x.keep(), -3);
-    House.due("too many acts come before", h.act("act x n -> n = a"), -15);
-    int left = room - bytes;
-    int rows = h.x.told(2);
-    House.due("clear", h.x.clear(), left >= 3 ? rows : -3);
-    House.due("all blocks", h.x.sync(), 34);
-    House.due("none is left", h.x.told(6), 200);
-    House.due("nothing can wait", h.word("bbb", false), -3);
-    House.due("nor be forgotten", h.x.told(3) > 0 ? h.x.forget() : -3, -3);
-    House.due("a term without its record", h.x.keep(), -3);
-    House.due("sync", h.x.sync(), 0);
+    House h = almostFull(0);
+    h.act("act last n -> n =2");
+    House.due("a fault comes before ROOM", h.act("act add n -> n =1"), -12);
+    House.due("so does NONE", h.learn("add"), -1);
+    House.due("and STATE", h.word("aaaaaaaa", true), -2);
+    House.due("a word that is told as it is", h.word("aaaaaaaa", false), h.x.told(3));
   }
 
   private static void down() {

@@ -6,6 +6,7 @@ public final class KeptTest {
     learning();
     patterns();
     ties();
+    learningAgain();
     learnRefusals();
     owning();
     House.finish();
@@ -128,6 +129,41 @@ public final class KeptTest {
     House.due("its text", h.own(1), "sub(mul(a,2),9)");
     House.due("kept", h.kept(0), "y(a)");
     House.due("kept", h.kept(1), "x(a)");
+    House first = new House();
+    for (int i = 0; i < 4; i++) {
+      keep(first, "n", "n", "rem(add(a,2),9)");
+      keep(first, "n", "n", "mul(add(a,3),9)");
+    }
+    first.learn("x");
+    House.due("the first byte counts first", first.own(0), "mul(add(a,3),9)");
+    House longer = new House();
+    keep(longer, "n", "n", "add(1,add(1,add(1,add(1,a))))");
+    longer.learn("x");
+    House.due("the shorter one if another goes on", longer.own(0), "add(1,a)");
+  }
+
+  /** Own acts that were learnt are acts in the next patterns. */
+  private static void learningAgain() {
+    House h = new House();
+    for (String end : new String[] {"a", "b", "sub(a,b)", "7"}) {
+      keep(h, "n n", "n", "mul(add(and(" + end + ",6),1),add(and(3,6),1))");
+    }
+    House.due("what is saved first", h.learn("even") > 0 ? 1 : 0, 1);
+    House.due("the act", h.own(0), "mul(add(and(a,6),1),add(and(3,6),1))");
+    House.due("kept", h.kept(2), "even(sub(a,b))");
+    House two = new House();
+    keep(two, "n n", "n", "add(1,add(1,add(1,add(1,a))))");
+    House.due("saved by the first", two.learn("p"), 9 - 5 - 3);
+    House.due("kept", two.kept(0), "p(p(p(p(a))))");
+    House.due("the next saves nothing yet", two.learn("q"), -2);
+    keep(two, "n n", "n", "sub(p(p(a)),p(p(b)))");
+    keep(two, "n n", "n", "sub(p(p(a)),p(p(b)))");
+    House.due("saved by the next", two.learn("q"), 5 + 7 + 7 - (3 + 5 + 5) - 3);
+    House.due("the next", two.own(1), "p(p(a))");
+    House.due("kept", two.kept(0), "q(q(a))");
+    House.due("kept", two.kept(1), "sub(q(a),q(b))");
+    House.due("kept", two.kept(2), "sub(q(a),q(b))");
+    House.due("its answer", two.value("q(3)"), 5);
   }
 
   private static void learnRefusals() {

@@ -4,7 +4,9 @@ public final class SearchTest {
     finding();
     ordering();
     counting();
+    choosing();
     errors();
+    lawsForAll();
     words();
     asking();
     rooms();
@@ -35,6 +37,14 @@ public final class SearchTest {
     h.ask("find n -> n; use 15; row 0 = 15; row 1 = 15;");
     h.x.find(1);
     House.due("a number of two digits", h.term(), "15");
+    h.ask("find n -> t; use true, false; row 0 = false; row 1 = false;");
+    House.due("a truth", h.x.find(1), 1);
+    House.due("its text", h.term(), "false");
+    h.x.ith(1, 0);
+    House.due("the only one", h.term(), "false");
+    h.ask("find n -> t; use false, true; row 0 = true;");
+    h.x.find(2);
+    House.due("the other", h.term(), "true");
   }
 
   private static void ordering() {
@@ -93,6 +103,35 @@ public final class SearchTest {
     House.due("many of price 9", last, h.x.count(9));
   }
 
+  /** All terms of if, one by one: in ORDER, without one twice, each meeting. */
+  private static void choosing() {
+    House h = new House();
+    h.ask("find t n -> n; use if, not, 3:2; row true 5 = 5;");
+    String[] due = {"if(a,b,b)", "if(a,b,3)", "if(not(a),b,b)", "if(not(a),3,b)"};
+    House.due("of price 4", h.x.count(4), 1);
+    House.due("of price 5", h.x.count(5), 2);
+    h.x.ith(4, 0);
+    House.due("price 4", h.term(), due[0]);
+    h.x.ith(5, 0);
+    House.due("price 5, the first", h.term(), due[1]);
+    h.x.ith(5, 1);
+    House.due("price 5, the second", h.term(), due[2]);
+    House.due("of price 6", h.x.count(6), 2);
+    h.x.ith(6, 0);
+    House.due("price 6, the first", h.term(), due[3]);
+    h.x.ith(6, 1);
+    House.due("price 6, the second", h.term(), "if(not(not(a)),b,b)");
+    int all = (int) h.x.count(7);
+    for (int i = 0; i < all; i++) {
+      h.x.ith(7, i);
+      House.due("it meets", h.x.answer(16 + 5), 5);
+    }
+    h.x.ith(7, 0);
+    House.due("price 7, the first", h.term(), "if(a,b,if(a,b,b))");
+    h.x.ith(7, all - 1);
+    House.due("price 7, the last", h.term(), "if(not(not(not(a))),b,b)");
+  }
+
   /** The price of a text by the pieces both:2, any, not:3, true. */
   private static int cheapPrice(String text) {
     int price = 0;
@@ -112,6 +151,30 @@ public final class SearchTest {
     h.ask("find n -> n; use if, same, 0, div; row 0 = 0; law x:n -> f(x) = if(same(x,0),0,div(x,x));");
     House.due("a branch that is not taken has no ERROR", h.x.find(9), 8);
     House.due("so it is found", h.term(), "if(same(a,0),a,div(a,a))");
+  }
+
+  private static void lawsForAll() {
+    House h = new House();
+    h.act("act z n -> n = if(same(a,0),1,a)");
+    h.act("act y n -> n = if(same(a,15),1,a)");
+    h.ask("find n -> n; use z; law x:n -> f(add(x,1)) = if(same(x,15),1,add(x,1));");
+    House.due("a law at all values", h.x.find(2), 2);
+    h.ask("find n -> n; use z; row 0 = 1; law x:n -> f(x) = x;");
+    House.due("it fails at the first value", h.x.find(2), 0);
+    h.ask("find n -> n; use y; row 15 = 1; law x:n -> f(x) = x;");
+    House.due("it fails at the last value", h.x.find(2), 0);
+    h.ask("find n n -> n; use sub, add; row 1 0 = 1; law x:n y:n -> f(x,y) = f(y,x);");
+    House.due("of two names", h.x.find(3), 3);
+    House.due("add, not sub", h.term(), "add(a,b)");
+    h.ask("find n t -> n; use if, add, 1; row 3 true = 4; law x:n y:t -> f(x,y) = if(y,add(x,1),x);");
+    House.due("of a number and a truth", h.x.find(6), 6);
+    House.due("if", h.term(), "if(b,add(a,1),a)");
+    h.ask("find n -> n; use add, 1; row 0 = 1; law x:n -> 1 = 2;");
+    House.due("a law that never holds", h.x.find(3), 0);
+    h.ask("find n -> n; use add, 1; row 0 = 1; law x:n -> div(x,0) = rem(f(x),0);");
+    House.due("ERROR is the same as ERROR", h.x.find(3), 1);
+    h.ask("find n -> n; use add, 1; row 0 = 1; law x:n -> f(div(x,0)) = 3;");
+    House.due("f of ERROR is ERROR", h.x.find(3), 0);
   }
 
   private static void words() {

@@ -125,10 +125,14 @@ public final class TermTest {
     House.due("is itself", h.term(), "less(a,a)");
     House.due("a value that is no piece", h.cheaper("add(a,2)"), -2);
     House.due("an act that is no piece", h.cheaper("sub(a,1)"), -2);
-    House.due("a price of 12", h.cheaper("add(add(0,1),1)") < 0 ? 0 : 1, 0);
+    House.due("a parameter alone", h.cheaper("b"), 1);
+    House.due("is itself", h.term(), "b");
     House.due("above 12", h.cheaper("add(0,add(a,add(1,1)))"), -2);
-    House.due("THE TERM stays", h.term(), "less(a,a)");
+    House.due("THE TERM stays", h.term(), "b");
     h.fault("a fault", h.cheaper("add(c,1)"), 2, 4);
+    h.ask("find t -> t; use not;");
+    House.due("a price of 12", h.cheaper("not(".repeat(11) + "a" + ")".repeat(11)), 2);
+    House.due("a price of 13", h.cheaper("not(".repeat(12) + "a" + ")".repeat(12)), -2);
     h.ask("find n -> n; use add, mul, xor, 1; row 1 = 3;");
     House.due("for its price", h.cheaper("add(a,add(a,add(a,add(a,1))))"), -3);
     House.due("for a lesser price", h.cheaper("add(xor(a,a),1)"), 1);
