@@ -193,10 +193,28 @@ public final class WordRowsTest {
     h.example("", "you");
     House.due("none fits both", h.x.fit(), 0);
     House.due("the one before stays", h.apply("abc"), 3);
+    letters();
     House twice = new House();
     twice.example("abcdefghij", "abcdefghij");
     twice.x.fit();
     House.due("ten letters", twice.apply("zzzzzzzzzz"), 10);
     House.due("front 10 of nine", twice.apply("zzzzzzzzz"), -1);
+  }
+
+  /** What is given is read from the tape as a word for machines. */
+  private static void letters() {
+    House h = new House();
+    h.example("cabd", "abaab");
+    h.example("caad", "aaaab");
+    h.example("cbbad", "bbaaab");
+    House.due("behind the c, before the d, then aab", h.x.fit(), 1 + 1 + 6);
+    House.due("two parts", h.x.part(0, 0), 2);
+    House.due("a cut from 1 on", h.x.part(0, 3), 1);
+    House.due("to 1 from the back", h.x.part(0, 4), 12);
+    House.due("aab", h.x.part(1, 2), (1 * 27 + 1) * 27 + 2);
+    House.due("what it gives for abba", h.apply("abba"), 5);
+    House.due("is a word", h.x.word(true), 1);
+    House.due("bbaab", h.word("bbaab", false), -2);
+    House.due("no other one", h.word("bbaaa", false), 2);
   }
 }
