@@ -475,7 +475,7 @@ public final class FinderHouse {
       return DOWN;
     }
     reader.setScope(loops.there ? loops.vars : 0, loops.varKinds);
-    reader.readTold(tape, 0, takeTape(), loops.there ? T : 0, NO_HOLES);
+    reader.readTold(tape, 0, takeTape(), T, NO_HOLES);
     if (reader.fault != 0) {
       return refuseFault();
     }

@@ -8,6 +8,8 @@ public final class LoopTest {
     keeping();
     faults();
     refusals();
+    keepsWithoutALoop(new House());
+    keepsBehindAStart();
     House.finish();
   }
 
@@ -147,8 +149,6 @@ public final class LoopTest {
     House h = new House();
     House.due("runs without a loop", h.x.runs(-1, 9), -2);
     House.due("span without a loop", h.x.span(-1, 9), -2);
-    House.due("keeps without a loop", h.keeps("1"), -2);
-    h.fault("keeps without a loop", h.keeps("a"), 2, 0);
     h.loop("loop n from a while false do a give a");
     House.due("no such input", h.x.runs(16, 0), -1);
     House.due("no such input", h.x.runs(-1, 0), -1);
@@ -158,5 +158,50 @@ public final class LoopTest {
     House.due("no such variable", h.x.span(-1, 0), -1);
     House.due("no such thing", h.x.span(0, 2), -1);
     House.due("no such thing", h.x.span(0, -1), -1);
+  }
+
+  /** A term of another kind than t is a fault, whether there is a loop or not; only its parameters are asked of the loop. */
+  private static void keepsWithoutALoop(House h) {
+    House.due("a truth", h.keeps("true"), -2);
+    House.due("a truth, behind a blank", h.keeps(" false"), -2);
+    House.due("an act of kind t", h.keeps("less(1,2)"), -2);
+    House.due("one that is ERROR", h.keeps("\nsame(div(1,0),2)"), -2);
+    House.due("the tape is used up", h.x.told(7), 0);
+    h.fault("a number", h.keeps("1"), 3, 0);
+    h.fault("a number, behind a blank", h.keeps(" 1"), 3, 1);
+    h.fault("a word", h.keeps("\"ab\""), 3, 0);
+    h.fault("a word, behind blanks", h.keeps(" \n\"\" "), 3, 2);
+    h.fault("an act of kind n", h.keeps("add(1,2)"), 3, 0);
+    h.fault("an act of kind n, behind blanks", h.keeps("   len ( \"a\" )"), 3, 3);
+    h.fault("an act of kind s", h.keeps("sign(1)"), 3, 0);
+    h.fault("an act of kind s, behind a blank", h.keeps("\nrev(\"ab\")"), 3, 1);
+    House.due("the tape is used up", h.x.told(7), 0);
+    h.fault("a parameter is not known, of no kind", h.keeps("a"), 2, 0);
+    h.fault("behind a blank", h.keeps(" a"), 2, 1);
+    h.fault("the lesser place of two", h.keeps("add(a,1)"), 3, 0);
+    h.fault("one in a truth", h.keeps("same(a,1)"), 2, 5);
+    h.fault("an operand's kind", h.keeps("not(1)"), 3, 4);
+    h.fault("one place, the lesser number", h.keeps(heavy(41).replace('a', '1').replace("1dd", "add")), 3, 0);
+    h.fault("an empty tape", h.keeps(""), 1, 0);
+    h.fault("more behind it", h.keeps("1 1"), 1, 2);
+    h.fault("a ?", h.keeps("?"), 1, 0);
+    h.x.end(0);
+    House.due("a place from the latest fault", h.x.place(), 0);
+  }
+
+  private static void keepsBehindAStart() {
+    House h = new House();
+    h.loop("loop n n from a, b while false do a, b give a");
+    House.due("with a loop", h.keeps("same(a,a)"), -1);
+    h.fault("a variable of another kind", h.keeps(" a"), 3, 1);
+    h.x.cut(0, 0);
+    h.word("a", true);
+    House.due("power goes", h.x.sync(), -4);
+    House.due("DOWN comes before a fault", h.keeps("1"), -5);
+    House.due("and leaves the tape", h.x.told(7), -5);
+    h.x.start();
+    House.due("the tape stays", h.x.told(7), 1);
+    House.due("there is no loop", h.x.runs(0, 0), -2);
+    keepsWithoutALoop(h);
   }
 }
