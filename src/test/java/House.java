@@ -2,7 +2,7 @@ import java.nio.charset.StandardCharsets;
 
 /** A FinderHouse with texts for its tape, and the checks that all tests share. */
 final class House {
-  final FinderHouse x = new FinderHouse();
+  final Calls x = new Calls();
   private static int wrong;
   private static int checks;
 
@@ -89,15 +89,16 @@ final class House {
   /** THE TERM's text. */
   String term() {
     StringBuilder text = new StringBuilder();
-    for (int i = 0; x.byteOf(i) >= 0; i++) {
-      text.append((char) x.byteOf(i));
+    for (int b = x.byteOf(0); b >= 0; b = x.byteOf(text.length())) {
+      text.append((char) b);
     }
     return text.toString();
   }
 
   String kept(int k) {
     StringBuilder text = new StringBuilder();
-    for (int i = 0; i < x.kept(k, -1); i++) {
+    int size = x.kept(k, -1);
+    for (int i = 0; i < size; i++) {
       text.append((char) x.kept(k, i));
     }
     return text.toString();
@@ -105,7 +106,8 @@ final class House {
 
   String own(int k) {
     StringBuilder text = new StringBuilder();
-    for (int i = 0; i < x.own(k, -1); i++) {
+    int size = x.own(k, -1);
+    for (int i = 0; i < size; i++) {
       text.append((char) x.own(k, i));
     }
     return text.toString();
@@ -125,6 +127,12 @@ final class House {
       wrong++;
       System.out.println(what + " answered " + got + ", due is " + want);
     }
+  }
+
+  static void wrong(String what) {
+    checks++;
+    wrong++;
+    System.out.println(what);
   }
 
   /** A FAULT at a place. */

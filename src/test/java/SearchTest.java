@@ -89,11 +89,12 @@ public final class SearchTest {
     House.due("the last tree", h.term(), "both(both(both(both(both(a,a),a),a),a),a)");
     h.x.ith(7, 2);
     House.due("the one in the middle", h.term(), "both(both(a,a),both(a,a))");
-    h.ask("find t t -> t; use both:2, any, not:3, true;");
     long last = 0;
     for (int p = 1; p <= 9; p++) {
+      h = new House();
+      h.ask("find t t -> t; use both:2, any, not:3, true;");
       long many = h.x.count(p);
-      for (long i = 0; i < many && i < 40; i++) {
+      for (long i = 0; i < many && h.x.left() > 80; i++) {
         int bytes = h.x.ith(p, i);
         House.due("ith tells its bytes", h.term().length(), bytes);
         House.due("its price", cheapPrice(h.term()), p);
