@@ -256,6 +256,9 @@ public final class AllTermsTest {
       House.due(what + "behind the last", h.x.ith(p, meeting.size()), -1);
       compareCheaper(what, p, functions);
     }
+    for (int p = 1; p <= 4; p++) {
+      compareMend(p);
+    }
   }
 
   private void compareFirst(House h, String what, int p) {
@@ -272,6 +275,105 @@ public final class AllTermsTest {
       }
     }
     House.due(what + "find", h.x.find(p), 0);
+  }
+
+  private long seed = 5;
+
+  private int next(int below) {
+    seed = seed * 6364136223846793005L + 1442695040888963407L;
+    return (int) ((seed >>> 33) % below);
+  }
+
+  /** A told term of a kind, of all acts and values. */
+  private String told(char kind, int depth) {
+    List<String> leaves = new ArrayList<>();
+    for (int k = 0; k < kinds.length(); k++) {
+      if (kinds.charAt(k) == kind) {
+        leaves.add("abc".substring(k, k + 1));
+      }
+    }
+    if (depth == 0 || next(4) == 0) {
+      int which = next(leaves.size() + 1);
+      return which < leaves.size() ? leaves.get(which) : kind == 'n' ? "" + next(16) : next(2) == 0 ? "true" : "false";
+    }
+    String[] acts = kind == 'n' ? new String[] {"add", "sub", "div", "if"} : new String[] {"less", "not", "both", "any"};
+    String name = acts[next(4)];
+    StringBuilder text = new StringBuilder(name);
+    for (int k = 0; k < act(name).length() - 1; k++) {
+      text.append(k == 0 ? '(' : ',').append(told(act(name).charAt(k), depth - 1));
+    }
+    return text.append(')').toString();
+  }
+
+  /** The places of a text's terms, each before its operands: where each one begins and ends, and its kind. */
+  private static int places(String text, int from, char kind, List<int[]> found) {
+    int at = from;
+    while (at < text.length() && "(),".indexOf(text.charAt(at)) < 0) {
+      at++;
+    }
+    int[] place = {from, at, kind};
+    found.add(place);
+    if (at < text.length() && text.charAt(at) == '(') {
+      String act = act(text.substring(from, at));
+      for (int k = 0; k < act.length() - 1; k++) {
+        at = places(text, at + 1, act.charAt(k), found);
+      }
+      at++;
+      place[1] = at;
+    }
+    return at;
+  }
+
+  private boolean meets(String text) {
+    for (int[] row : rows) {
+      if (Terms.answer(text, row) != row[kinds.length()]) {
+        return false;
+      }
+    }
+    return true;
+  }
+
+  /** The least price of what is put in, then the place, then ORDER. */
+  private void compareMend(int p) {
+    House h = new House();
+    h.ask(ask);
+    if (functions(p).size() > 120) {
+      House.due(ask + " mend " + p, h.mend(told(last, 1), p), -3);
+      return;
+    }
+    for (int i = 0; i < 6 && h.x.left() > 110; i++) {
+      String text = told(last, 3);
+      String what = ask + " mend " + p + " of " + text;
+      int answer = h.mend(text, p);
+      if (meets(text)) {
+        House.due(what, answer, 0);
+        continue;
+      }
+      String best = null;
+      int place = -1;
+      int price = 100;
+      List<int[]> found = new ArrayList<>();
+      places(text, 0, last, found);
+      for (int q = 1; q <= p && best == null; q++) {
+        for (int k = 0; k < found.size() && best == null; k++) {
+          for (Made put : terms.get(q)) {
+            String made = text.substring(0, found.get(k)[0]) + put.text + text.substring(found.get(k)[1]);
+            if (put.kind == found.get(k)[2] && meets(made)) {
+              best = made;
+              place = k;
+              price = q;
+              break;
+            }
+          }
+        }
+      }
+      House.due(what, answer, price);
+      if (best != null) {
+        House.due(what + ", its place", h.x.mended(), place);
+        String told = h.term();
+        House.due(what + ", its text", told, best);
+      }
+    }
   }
 
   private void compareCheaper(String what, int p, List<Made> functions) {

@@ -21,6 +21,8 @@ public final class DiskEdgeTest {
     sums();
     usedUpToTheLast();
     allBlocksUsed();
+    noneUsedAnyMore();
+    doneAgainOnAFullDisk();
     recordsPassedOver();
     recordsThatChangeNothing();
     limitsWhenDoneAgain();
@@ -28,8 +30,10 @@ public final class DiskEdgeTest {
     namesDoneAgain();
     moreThan2000Bytes();
     restOfTheSync();
+    beyondTheSync();
     recordsOverBlocks();
     learntAgain();
+    otherKindsAgain();
     octets();
     pokes();
     House.finish();
@@ -469,6 +473,57 @@ public final class DiskEdgeTest {
     House.due("nothing to write", h.x.sync(), 0);
   }
 
+  /** Blocks that were used are not any more, where the first of them is not RIGHT. */
+  private static void noneUsedAnyMore() {
+    for (int many = 1; many <= 3; many++) {
+      House h = new House();
+      for (int i = 0; i < many; i++) {
+        h.word("a".repeat(i), true);
+        h.x.sync();
+      }
+      House.due("used", h.x.told(6), many);
+      h.x.poke(1, 9, 1);
+      Blocks.goDown(h);
+      House.due("nothing is done again", h.x.start(), 0);
+      House.due("none is used", h.x.told(6), 0);
+      House.due("no words", h.x.told(3), 0);
+      h.word("bb", true);
+      House.due("the next sync", h.x.sync(), 1);
+      Blocks.dueBlock("is written from block 1 on", h, Blocks.block(1, 1, Blocks.record(4, "\001bb"), 0, 6));
+      House.due("one is used", h.x.told(6), 1);
+    }
+  }
+
+  /** Records of each number are done again, though there is no room for new ones. */
+  private static void doneAgainOnAFullDisk() {
+    House h = new House();
+    h.act("act up n->n=add(a,1)");
+    h.ask("find n n->n;use 1;");
+    h.mend("add(mul(a,9),1)", 1);
+    h.x.keep();
+    h.mend("add(mul(b,9),1)", 1);
+    h.x.keep();
+    House.due("learn", h.learn("nine"), 1);
+    h.example("ab", "b");
+    House.due("a block", h.x.sync(), 1);
+    for (int i = 0; i < 198; i++) {
+      House.due("a block", (i % 2 == 0 ? h.x.word(true) : h.x.forget()) >= 0 ? h.x.sync() : -1, 1);
+    }
+    House.due("199 are used", h.x.told(6), 199);
+    h.x.cut(0, 0);
+    h.x.clear();
+    House.due("power goes", h.x.sync(), -4);
+    House.due("all records", h.x.start(), 5 + 198);
+    int[] due = {2, 2, 1, 0, 0, 0, 199};
+    for (int what = 0; what < due.length; what++) {
+      House.due("told(" + what + ")", h.x.told(what), due[what]);
+    }
+    House.due("kept", h.kept(0) + h.kept(1), "nine(a)nine(b)");
+    House.due("the last block", h.x.clear() == 1 ? h.x.sync() : -1, 1);
+    House.due("all are used", h.x.told(6), 200);
+    House.due("nothing can wait", h.word("ab", true), -3);
+  }
+
   private static House started(String what, int due, byte[]... records) {
     House h = Blocks.withSync(records);
     House.due(what, h.x.start(), due);
@@ -636,6 +691,37 @@ public final class DiskEdgeTest {
     House.due("all are used", h.x.told(6), 3);
   }
 
+  /** A record that goes beyond its sync's bytes is none, whatever bytes another sync has there. */
+  private static void beyondTheSync() {
+    byte[] wide = Blocks.record(1, Blocks.longAct("wide", 100));
+    byte[][] beyond = {
+      {1, 0, 20, 'a', 'c', 't', ' ', 'w', ' ', 'n', '-', '>', 'n', '=', 'a'}, {1, 0, 13, 'a', 'c', 't', ' ', 'w', ' ', 'n', '-', '>', 'n', '=', 'a'},
+      {2, 0, 9, 1, 'n', 'a'}, {2, 0, 4, 1, 'n', 'a'}
+    };
+    for (byte[] bytes : beyond) {
+      House h = oneBlock(Blocks.block(1, 1, wide, 0, wide.length));
+      Blocks.write(h, Blocks.block(2, 1, bytes, 0, bytes.length));
+      Blocks.write(h, Blocks.block(3, 1, WORD, 0, WORD.length));
+      House.due("blanks in the sync before: record " + bytes[0] + " of " + bytes[2], h.x.start(), 2);
+      House.due("it is not done", h.x.told(0) * 10 + h.x.told(1), 10);
+      bytes[2] = (byte) (bytes.length - 3);
+      h = oneBlock(Blocks.block(1, 1, wide, 0, wide.length));
+      Blocks.write(h, Blocks.block(2, 1, bytes, 0, bytes.length));
+      House.due("just its bytes", h.x.start(), 2);
+    }
+    byte[] letters = Blocks.record(6, "\012aaaaaaaaaabbbbbbbbbb");
+    byte[] row = {6, 0, 8, 2, 'a', 'a', 'b'};
+    byte[] word = {4, 0, 7, 1, 'a', 'a', 'b'};
+    byte[] name = {3, 0, 5, 'x'};
+    for (byte[] bytes : new byte[][] {row, word, name}) {
+      House h = oneBlock(Blocks.block(1, 1, letters, 0, letters.length));
+      Blocks.write(h, Blocks.block(2, 1, bytes, 0, bytes.length));
+      House.due("letters in the sync before: record " + bytes[0], h.x.start(), 1);
+      House.due("one row", h.x.told(2), 1);
+      House.due("no words", h.x.told(3), 0);
+    }
+  }
+
   /** A record may go over from one block to the next, but not to the next sync. */
   private static void recordsOverBlocks() {
     byte[] act = Blocks.record(1, Blocks.longAct("w", 130));
@@ -668,12 +754,41 @@ public final class DiskEdgeTest {
     House.due("its answer", h.value("x(2)"), 3);
   }
 
+  /** What was lost leaves nothing: own acts of other kinds, in the same places. */
+  private static void otherKindsAgain() {
+    House h = new House();
+    h.act("act one n -> n = add(a,1)");
+    h.act("act two n n -> t = less(a,b)");
+    h.act("act three t -> n = if(a,5,6)");
+    House.due("one", h.value("one(1)"), 2);
+    Blocks.goDown(h);
+    House.due("nothing was written", h.x.start(), 0);
+    h.fault("one is not known", h.value("one(1)"), 2, 0);
+    h.act("act one s -> s = cat(a,\"x\")");
+    h.act("act two s n -> n = add(len(a),b)");
+    h.act("act three s s -> t = like(a,rev(b))");
+    House.due("one", h.value("one(\"b\")"), 2 * 27 + 24);
+    House.due("two", h.value("two(\"ab\",3)"), 5);
+    House.due("three", h.value("three(\"ab\",\"ba\")"), 1);
+    House.due("three", h.value("three(\"ab\",\"ab\")"), 0);
+    h.fault("of another kind", h.value("one(1)"), 3, 4);
+    h.fault("of two", h.value("three(\"ab\")"), 4, 0);
+    Blocks.goDown(h);
+    h.x.start();
+    h.act("act one t t -> t = both(a,b)");
+    h.act("act two n -> n = sub(a,1)");
+    House.due("one", h.value("one(true,true)"), 1);
+    House.due("two", h.value("two(0)"), 15);
+    House.due("its second kind", h.x.own(1, -3), 0);
+  }
+
+  /** Whether just this exception comes, thrown by the call itself. */
   private static boolean octetThrows(House h, int block, int i) {
     try {
       h.x.octet(block, i);
       return false;
     } catch (IndexOutOfBoundsException e) {
-      return true;
+      return e.getClass() == IndexOutOfBoundsException.class;
     }
   }
 
@@ -682,7 +797,7 @@ public final class DiskEdgeTest {
       h.x.poke(block, i, 0);
       return false;
     } catch (IndexOutOfBoundsException e) {
-      return true;
+      return e.getClass() == IndexOutOfBoundsException.class;
     }
   }
 

@@ -17,6 +17,11 @@ public final class KeptEdgeTest {
     savingOfOne();
     weightOfPatterns();
     alikeByBytes();
+    neighbouringPlaces();
+    placesThatAreNotFirst();
+    twelveAndThirty();
+    deepTermsStay();
+    kindsOfPatterns();
     againstTheModel();
     againAndAgain();
     namesToLearn();
@@ -202,6 +207,8 @@ public final class KeptEdgeTest {
   private static void sameTwoOperands() {
     learnt("the same at both", numbers("add(mul(a,b),mul(a,b))", "add(xor(b,1),xor(b,1))", "add(c,c)"), "x", 7 + 7 + 3 - (4 + 4 + 2) - 3,
         "add(a,a)", "x(mul(a,b))", "x(xor(b,1))", "x(c)");
+    learnt("not the same at the second", numbers("sub(add(a,8),add(a,9))", "sub(add(a,8),add(b,9))"), "x", 14 - 6 - 7, "sub(add(a,8),add(b,9))", "x(a,a)", "x(a,b)");
+    learnt("not the same at the first", numbers("sub(add(a,8),add(b,9))", "sub(add(a,8),add(a,9))"), "x", 14 - 6 - 7, "sub(add(a,8),add(b,9))", "x(a,b)", "x(a,a)");
     House other = numbers("add(mul(a,1),a)", "add(mul(b,1),c)", "add(mul(c,1),7)");
     learnt("the same at one place alone", other, "x", 15 - 9 - 5, "add(mul(a,1),b)", "x(a,a)", "x(b,c)", "x(c,7)");
   }
@@ -286,6 +293,83 @@ public final class KeptEdgeTest {
     learnt("as the model says", digits, "x", saving, model.best, model.kept(0), model.kept(1), model.kept(2), model.kept(3));
   }
 
+  /** A place and its first operand, its second one, its third one. */
+  private static void neighbouringPlaces() {
+    String big = "mul(7,mul(3,5))";
+    learnt("the first operand", numbers("add(add(a," + big + ")," + big + ")"), "x", 13 - 3 - 7, "add(a," + big + ")", "x(x(a))");
+    learnt("the second operand", numbers("add(" + big + ",add(" + big + ",a))"), "x", 13 - 3 - 7, "add(" + big + ",a)", "x(x(a))");
+    learnt("the third operand", numbers("if(true," + big + ",if(true," + big + ",a))"), "x", 15 - 3 - 8, "if(true," + big + ",a)", "x(x(a))");
+    learnt("beside one another", numbers("sub(add(a," + big + "),add(b," + big + "))"), "x", 15 - 5 - 7, "add(a," + big + ")", "sub(x(a),x(b))");
+  }
+
+  /** Places that are not numbered alike in their terms: what their operands are is looked at where these stand. */
+  private static void placesThatAreNotFirst() {
+    learnt("the second parameter twice", numbers("sub(add(a,b),b)", "max(1,sub(add(1,2),2))", "max(a,max(7,sub(add(2,c),c)))", "min(sub(add(b,7),7),3)"), "x",
+        5 + 7 + 9 + 7 - (3 + 5 + 7 + 5) - 5, "sub(add(a,b),b)", "x(a,b)", "max(1,x(1,2))", "max(a,max(7,x(2,c)))", "min(x(b,7),3)");
+    learnt("the first parameter twice", numbers("max(9,sub(add(a,b),a))", "sub(add(1,2),1)", "max(a,max(7,sub(add(2,c),2)))", "sub(add(mul(a,b),7),mul(a,b))"), "x",
+        7 + 5 + 9 + 9 - (5 + 3 + 7 + 5) - 5, "sub(add(a,b),a)", "max(9,x(a,b))", "x(1,2)", "max(a,max(7,x(2,c)))", "x(mul(a,b),7)");
+    House h = numbers("max(mul(a,b),sub(add(c,a),c))", "sub(add(b,mul(a,b)),b)", "min(0,min(1,sub(add(7,8),7)))", "sub(add(9,1),9)");
+    Patterns model = new Patterns();
+    for (int k = 0; k < 4; k++) {
+      model.keep(h.kept(k));
+    }
+    learnt("as the model says", h, "x", model.learn("x"), "sub(add(a,b),a)", model.kept(0), model.kept(1), model.kept(2), model.kept(3));
+  }
+
+  /** Twelve kept terms of SIZE 30 each. */
+  private static void twelveAndThirty() {
+    House h = numbers();
+    Patterns model = new Patterns();
+    for (int k = 0; k < 12; k++) {
+      String leaf = "abc".substring(k % 3, k % 3 + 1);
+      String text = "if(true," + tree("add", leaf, 7) + "," + tree(k % 2 == 0 ? "mul" : "max", leaf, 6) + ")";
+      House.due("kept", keep(h, text), k);
+      model.keep(text);
+    }
+    House.due("what is saved", h.learn("x"), model.learn("x"));
+    House.due("the act", h.own(0), model.best);
+    for (int k : new int[] {0, 1, 5, 10, 11}) {
+      House.due("kept " + k, h.kept(k), model.kept(k));
+    }
+    House.due("twelve", h.x.told(1), 12);
+    House.due("no 13th", h.x.kept(12, -1), -1);
+  }
+
+  /** A term within twelve others stays where it is when others are learnt. */
+  private static void deepTermsStay() {
+    House h = numbers("xor(1,xor(2,xor(4,xor(8,xor(9,xor(3,xor(5,xor(6,xor(7,xor(10,xor(11,max(a,b))))))))))))", "add(mul(a,9),1)", "add(mul(b,9),1)", "add(mul(c,9),1)");
+    String kept = h.kept(0);
+    learnt("others", h, "x", 15 - 6 - 5, "add(mul(a,9),1)", kept, "x(a)", "x(b)", "x(c)");
+    House inner = numbers("xor(1,xor(2,xor(4,xor(8,xor(9,xor(3,xor(5,xor(6,xor(7,xor(10,add(mul(a,9),1)))))))))))", "add(mul(b,9),1)", "add(mul(c,9),1)");
+    learnt("in the deepest place", inner, "x", 15 - 6 - 5, "add(mul(a,9),1)", "xor(1,xor(2,xor(4,xor(8,xor(9,xor(3,xor(5,xor(6,xor(7,xor(10,x(a)))))))))))", "x(b)", "x(c)");
+    House.due("within twelve", numbers(nested("sub(0,", "7", 12)).kept(0), nested("sub(0,", "7", 12));
+  }
+
+  /** An own act that is learnt has the kind of its first act, and its parameter the kind of the operand that it stands for. */
+  private static void kindsOfPatterns() {
+    String[][] all = {
+      {"n", "add(#,9)"}, {"n", "sub(#,9)"}, {"n", "mul(#,9)"}, {"n", "div(#,9)"}, {"n", "rem(#,9)"}, {"n", "min(#,9)"}, {"n", "max(#,9)"}, {"n", "and(#,9)"},
+      {"n", "or(#,9)"}, {"n", "xor(#,9)"}, {"t", "less(#,9)"}, {"t", "same(#,9)"}, {"t", "not(less(#,9))"}, {"t", "both(less(#,9),true)"},
+      {"t", "any(less(#,9),true)"}, {"n", "if(true,#,9)"}, {"s", "pick(true,sign(#),\"x\")"}, {"s", "cat(sign(#),\"x\")"}, {"n", "len(sign(#))"},
+      {"s", "take(sign(#),9)"}, {"s", "drop(sign(#),9)"}, {"s", "rev(sign(#))"}, {"s", "head(sign(#))"}, {"t", "like(sign(#),\"x\")"},
+      {"n", "code(sign(#))"}, {"s", "sign(add(#,9))"}
+    };
+    for (String[] each : all) {
+      House h = new House();
+      h.ask("find n n n -> " + each[0] + "; use 1;");
+      for (int k = 0; k < 4; k++) {
+        House.due("kept", keep(h, each[1].replace("#", "abc7".substring(k, k + 1))), k);
+      }
+      House.due(each[1], h.learn("x") > 0 ? 1 : 0, 1);
+      House.due(each[1], h.own(0), each[1].replace("#", "a"));
+      House.due(each[1] + ", its own kind", h.x.own(0, -4), each[0].charAt(0));
+      House.due(each[1] + ", its first kind", h.x.own(0, -2), 'n');
+      House.due(each[1] + ", no second one", h.x.own(0, -3), 0);
+      String truth = each[0].equals("n") ? "same(x(1),1)" : each[0].equals("t") ? "not(x(1))" : "like(x(1),\"\")";
+      House.due(each[1] + ", where it stands", h.value(truth) >= -1 ? 1 : 0, 1);
+    }
+  }
+
   private long seed = 42;
 
   private int next(int below) {
@@ -351,7 +435,7 @@ public final class KeptEdgeTest {
   }
 
   private static void namesToLearn() {
-    String[] none = {"", "abcdefghi", "a b", " x", "x ", "A", "xA", "x1", "1", "x\n", "`", "{", "x{", "(", "\"x\"", "x\u00e9", "?"};
+    String[] none = {"", "abcdefghi", "a b", " x", "x ", "A", "xA", "x1", "1", "x\n", "`", "{", "x{", "(", "\"x\"", "x\u00e9", "?", "x`", "`x", "{x", "xyzxyzx`"};
     House h = numbers("add(mul(a,9),1)", "add(mul(b,9),1)", "add(mul(c,9),1)");
     for (String name : none) {
       House.due("no name: " + name, h.learn(name), -1);

@@ -23,6 +23,7 @@ public final class LoopEdgeTest {
     keepsAtTheEnd();
     keepsErrors();
     keepsFaults();
+    kindsOfVariables();
     ordersOfRefusals();
     aLoopForAnother();
     ownActsInLoops();
@@ -295,6 +296,34 @@ public final class LoopEdgeTest {
     House.due("the tape is used up", h.x.told(7), 0);
     House.due("the ask's parameters are not the loop's", h.ask("find s s s -> n; use 1;"), 0);
     h.fault("no third", h.keeps("like(c,c)"), 2, 5);
+  }
+
+  /** Each variable has the kind of its term of from, also when another loop was there before. */
+  private static void kindsOfVariables() {
+    House h = new House();
+    for (int before = 0; before < 2; before++) {
+      for (int kinds = 0; kinds < 8 && h.x.left() > 60; kinds++) {
+        String from = "";
+        String to = "";
+        for (int v = 0; v < 3; v++) {
+          from += (v > 0 ? ", " : "") + ((kinds >> v & 1) == 0 ? "7" : "true");
+          to += (v > 0 ? ", " : "") + "abc".charAt(v);
+        }
+        House.due("from " + from, h.loop("loop n from " + from + " while false do " + to + " give 1"), 1);
+        for (int v = 0; v < 3; v++) {
+          String name = "abc".substring(v, v + 1);
+          if ((kinds >> v & 1) == 1) {
+            House.due(name + " of from " + from, h.keeps(name), -1);
+            h.fault(name + " is no number", h.keeps("same(" + name + ",1)"), 3, 5);
+          } else {
+            h.fault(name + " of from " + from, h.keeps(name), 3, 0);
+            House.due(name + " is a number", h.keeps("same(" + name + ",7)"), -1);
+          }
+        }
+      }
+      h = new House();
+      House.due("another loop before", h.loop("loop n from 1, true, true while false do a, b, c give 1"), 1);
+    }
   }
 
   /** DOWN, STATE, NONE of runs and span; DOWN, FAULTS, STATE of keeps. */

@@ -16,6 +16,8 @@ public final class MachineEdgeTest {
     statesOutOfRange();
     theMachineStays();
     fiveAgainstAll();
+    twentyAgainstAll();
+    wordsThatWereCut();
     goalsOfNoActs();
     goalsOfActs();
     goalsUpToEight();
@@ -250,27 +252,65 @@ public final class MachineEdgeTest {
       {"aab+", "ab", "b", "abab+", "bb+", "", "baa", "aabb", "bba+", "abba", "babb+", "aaaa"}
     };
     for (String[] set : sets) {
-      House h = new House();
-      String[] words = new String[set.length];
-      boolean[] good = new boolean[set.length];
-      for (int i = 0; i < set.length; i++) {
-        good[i] = set[i].endsWith("+");
-        words[i] = set[i].replace("+", "");
-        House.due("word", h.word(words[i], good[i]), i + 1);
-      }
-      int[] found = null;
-      int n = 0;
-      while (found == null && n < 5) {
-        n++;
-        found = first(n, new int[3 * n], 0, 0, words, good);
-      }
-      House.due("states", h.x.machine(), found == null ? 0 : n);
-      for (int i = 0; found != null && i < n; i++) {
-        House.due("by a", h.x.state(i, 0), found[2 * i]);
-        House.due("by b", h.x.state(i, 1), found[2 * i + 1]);
-        House.due("good", h.x.state(i, 2), found[2 * n + i]);
-      }
+      againstAll(set);
     }
+  }
+
+  /** Words, those with a + good ones: THE LEAST is the first of all machines that fits. */
+  private static void againstAll(String... set) {
+    House h = new House();
+    String[] words = new String[set.length];
+    boolean[] good = new boolean[set.length];
+    for (int i = 0; i < set.length; i++) {
+      good[i] = set[i].endsWith("+");
+      words[i] = set[i].replace("+", "");
+      House.due("word", h.word(words[i], good[i]), i + 1);
+    }
+    int[] found = null;
+    int n = 0;
+    while (found == null && n < 5) {
+      n++;
+      found = first(n, new int[3 * n], 0, 0, words, good);
+    }
+    House.due("states", h.x.machine(), found == null ? 0 : n);
+    for (int i = 0; found != null && i < n; i++) {
+      House.due("by a", h.x.state(i, 0), found[2 * i]);
+      House.due("by b", h.x.state(i, 1), found[2 * i + 1]);
+      House.due("good", h.x.state(i, 2), found[2 * n + i]);
+    }
+  }
+
+  /** As many words as there may be, the last one among them that counts. */
+  private static void twentyAgainstAll() {
+    for (int rule = 0; rule < 6; rule++) {
+      String[] set = new String[20];
+      for (int i = 0; i < 20; i++) {
+        String word = bits(i).substring(i % 3);
+        int as = word.replace("b", "").length();
+        boolean[] good = {as % 2 == 0, as % 3 == 1, word.endsWith("ab"), i == 19, word.contains("bb"), i % 5 == 4};
+        set[i] = (word.length() == 5 ? word : word + "abb".substring(0, i % 3 + 1)) + (good[rule] ? "+" : "");
+      }
+      againstAll(set);
+    }
+  }
+
+  /** A word that end() has cut is as long as it is told: what stood behind it does not count. */
+  private static void wordsThatWereCut() {
+    House h = new House();
+    House.due("ab", h.word("ab", true), 1);
+    for (String longer : new String[] {"aba", "abb", "abbb", "abc", "ab ab"}) {
+      h.tape(longer);
+      h.x.end(2);
+      House.due("ab of " + longer, h.x.word(true), 1);
+      h.tape(longer);
+      h.x.end(2);
+      House.due("ab of " + longer + ", otherwise", h.x.word(false), -2);
+    }
+    h.tape("bbbb");
+    h.x.end(0);
+    House.due("none of bbbb", h.x.word(false), 2);
+    House.due("no letters", h.word("", false), 2);
+    House.due("the machine", h.x.machine(), 2);
   }
 
   /** Sets the moves one by one, and looks at the words when all are set. */

@@ -470,11 +470,11 @@ public final class RefusalsTest {
       call.run();
       return 0;
     } catch (IndexOutOfBoundsException e) {
-      return 1;
+      return e.getClass() == IndexOutOfBoundsException.class ? 1 : -1;
     } catch (IllegalArgumentException e) {
-      return 2;
+      return e.getClass() == IllegalArgumentException.class ? 2 : -1;
     } catch (IllegalStateException e) {
-      return 3;
+      return e.getClass() == IllegalStateException.class ? 3 : -1;
     }
   }
 }

@@ -13,7 +13,12 @@ public final class SearchEdgeTest {
     rowsThatAreError();
     lawsOfBothErrors();
     lawsForTheLastValue();
+    lawsOfThreeOperands();
+    lawsEachOfItsKinds();
     meetingInTheLastRow();
+    rowsOfThreeValues();
+    kindsMakeFunctions();
+    ownActsOfWords();
     functionsThatMeet();
     theQuestion();
     theFirstOfAlikeQuestions();
@@ -62,6 +67,15 @@ public final class SearchEdgeTest {
     House.due("a truth beside a word", h.ask("find t s -> n; use 1; row true \"b\" = 1;"), 1);
     House.due("true", h.x.point(0, 0) * 10 + h.x.point(0, 1), 12);
     House.due("the last kind s alone", h.ask("find n -> s; use 1; row 3 = \"\";"), 16);
+    for (String kinds : new String[] {"s", "s s", "s s s", "n s", "s t s", "s s n", "t s s"}) {
+      String row = kinds.replace("s", "\"b\"").replace("n", "3").replace("t", "true");
+      House.due(kinds + " without rows", h.ask("find " + kinds + " -> n; use 1;"), 0);
+      House.due("no point", h.x.point(0, 0), -2);
+      House.due(kinds + " with a row", h.ask("find " + kinds + " -> n; use 1; row " + row + " = 1;"), 1);
+      House.due("its first value", h.x.point(0, 0), row.startsWith("\"") ? 2 : row.startsWith("3") ? 3 : 1);
+      House.due("its last value", h.x.point(0, kinds.length() / 2), kinds.endsWith("n") ? 3 : 2);
+      House.due("no second point", h.x.point(1, 0), -2);
+    }
   }
 
   private static void pointsOutOfRange() {
@@ -296,6 +310,111 @@ public final class SearchEdgeTest {
     h.ask("find t t t -> t; use both; law x:t -> f(true,x,true) = x; law x:t -> f(x,true,true) = x; law x:t -> f(true,true,x) = x;");
     House.due("three operands", h.x.find(5), 5);
     House.due("its text", h.term(), "both(a,both(b,c))");
+  }
+
+  /** f of three operands, each with as many values as its kind has; one that is ERROR makes it ERROR. */
+  private static void lawsOfThreeOperands() {
+    House h = new House();
+    h.ask("find t n t -> n; use if, 0; law x:t y:n -> f(x,y,true) = if(x,y,0); law x:t y:n -> f(x,y,false) = 0;");
+    House.due("t n t", h.x.find(7), 7);
+    House.due("its text", h.term(), "if(a,if(c,b,0),0)");
+    h.ask("find n t t -> n; use if, 0; law x:n y:t -> f(x,y,true) = if(y,x,0); law x:n y:t -> f(x,y,false) = 0;");
+    House.due("n t t", h.x.find(7), 7);
+    House.due("its text", h.term(), "if(b,if(c,a,0),0)");
+    h.ask("find t t n -> n; use if, 0; law x:t y:n -> f(x,true,y) = if(x,y,0); law x:t y:n -> f(x,false,y) = 0;");
+    House.due("t t n", h.x.find(7), 7);
+    House.due("its text", h.term(), "if(a,if(b,c,0),0)");
+    h.ask("find t n t -> t; use both; law x:t y:n -> f(x,y,true) = x; law x:t y:n -> f(x,y,false) = false;");
+    House.due("to a truth", h.x.find(3), 3);
+    House.due("its text", h.term(), "both(a,c)");
+    h.ask("find t t n -> n; use 0; law x:t -> f(x,x,div(1,0)) = div(1,0);");
+    House.due("the third is ERROR", h.x.find(1), 1);
+    h.ask("find t n t -> n; use 0; law x:t -> f(x,div(1,0),x) = div(1,0);");
+    House.due("the second is ERROR", h.x.find(1), 1);
+    h.ask("find n t t -> n; use 0; law x:t -> f(div(1,0),x,x) = div(1,0);");
+    House.due("the first is ERROR", h.x.find(1), 1);
+    h.ask("find t t n -> n; use 0; law x:t -> f(x,x,div(1,0)) = 0;");
+    House.due("ERROR is no number, though all terms were 0", h.x.find(1), 0);
+  }
+
+  /** Each of four laws has the kinds of its own names, whatever the others have. */
+  private static void lawsEachOfItsKinds() {
+    String[] others = {"law p:t q:t -> 1 = 1;", "law p:n q:n -> 1 = 1;", "law p:t -> 1 = 1;", "law p:n q:t -> 1 = 1;"};
+    String[] wanted = {"law x:n -> f(x) = add(x,1);", "law y:t x:n -> f(x) = add(x,1);", "law x:n y:t -> f(x) = add(x,1);", "law x:n y:n -> f(y) = add(y,1);"};
+    for (String other : others) {
+      House h = new House();
+      h.act("act cut n -> n = if(less(a,2),add(a,1),0)");
+      for (String want : wanted) {
+        for (int at = 0; at < 4 && h.x.left() > 30; at++) {
+          String laws = other.repeat(at) + want + other.repeat(3 - at);
+          House.due(laws, h.ask("find n -> n; use cut, add:2, 1; " + laws), 16);
+          House.due("not cut(a), as law " + at, h.x.find(4), 4);
+        }
+      }
+    }
+    House h = new House();
+    h.ask("find n -> n; use add, 1; law x:t -> f(if(x,1,0)) = if(x,2,1); law x:n -> f(x) = f(x); law x:t y:n -> y = y; law y:n x:t -> x = x;");
+    House.due("a law of a truth looks at two values", h.x.find(3), 3);
+    House.due("its text", h.term(), "add(a,1)");
+  }
+
+  /** A row's values are those of its own POINT, in asks of all values with three parameters, too. */
+  private static void rowsOfThreeValues() {
+    House h = new House();
+    h.ask("find n t t -> n; use if, 0; row 5 false true = 5; row 7 true false = 0; row 9 false true = 9; row 3 true false = 0; row 2 true true = 2;"
+        + " row 8 false false = 0;");
+    House.due("n t t", h.x.find(4), 4);
+    House.due("its text", h.term(), "if(c,a,0)");
+    House.due("its answer at 5 false true", h.x.answer(5 * 4 + 1), 5);
+    h.ask("find t n t -> n; use if, 0; row true 5 false = 5; row false 7 true = 0; row true 9 true = 9; row false 3 false = 0; row true 15 false = 15;");
+    House.due("t n t", h.x.find(4), 4);
+    House.due("its text", h.term(), "if(a,b,0)");
+    h.ask("find t t n -> n; use if, 0; row true false 5 = 0; row false true 7 = 7; row true true 9 = 9; row false false 3 = 0;");
+    House.due("t t n", h.x.find(4), 4);
+    House.due("its text", h.term(), "if(b,c,0)");
+    h.ask("find n n n -> n; use add; row 1 2 9 = 10; row 2 1 7 = 9; row 9 15 15 = 8;");
+    House.due("n n n", h.x.find(3), 3);
+    House.due("its text", h.term(), "add(a,c)");
+  }
+
+  /** A FUNCTION is its kind, too: what has the same numbers as answers is not the same, for any number of POINTS. */
+  private static void kindsMakeFunctions() {
+    String[] kinds = {"t", "t t", "t t t", "n", "n t", "n t t", "n n"};
+    for (String each : kinds) {
+      dueKinds("find " + each + " -> n; use 0, false, \"\", 1, true, \"a\";", true);
+    }
+    for (int rows = 0; rows <= 12; rows++) {
+      dueKinds("find s -> n; use 0, false, \"\", 1, true, \"a\";" + " row \"b\" = 1;".repeat(rows), rows > 0);
+    }
+  }
+
+  private static void dueKinds(String ask, boolean hasPoints) {
+    House h = new House();
+    h.ask(ask);
+    for (String text : new String[] {"true", "\"a\"", "1", "\"\"", "false", "0"}) {
+      String first = text.startsWith("\"") ? "a" : Character.isDigit(text.charAt(0)) ? "0" : "false";
+      House.due(ask + " cheaper " + text, h.cheaper(text), 1);
+      House.due(ask + " cheaper " + text, h.term(), hasPoints ? text : first);
+    }
+  }
+
+  private static void ownActsOfWords() {
+    House h = new House();
+    h.act("act twice s -> s = cat(a,a)");
+    h.act("act some s n -> s = take(twice(a),b)");
+    h.act("act size s -> n = len(twice(a))");
+    h.ask("find s n -> s; use twice, some:2, 3; row \"ab\" 9 = \"abab\"; row \"\" 9 = \"\"; row \"abcd\" 9 = error;");
+    House.due("of one word", h.x.find(2), 2);
+    House.due("its text", h.term(), "twice(a)");
+    House.due("its answers", h.x.answer(0) * 10 + h.x.answer(1) * 2 + h.x.answer(2), (((27 + 2) * 27 + 1) * 27 + 2) * 10 - 1);
+    h.ask("find s n -> s; use twice, some:2, 3; row \"ab\" 1 = \"aba\"; row \"x\" 9 = \"xx\";");
+    House.due("of a word and a number", h.x.find(4), 4);
+    House.due("its text", h.term(), "some(a,3)");
+    h.ask("find s -> n; use size; row \"ab\" = 4; row \"abcd\" = error;");
+    House.due("of a word to a number", h.x.find(2), 2);
+    House.due("its text", h.term(), "size(a)");
+    House.due("only one of that price", h.x.count(2), 1);
+    House.due("cheaper", h.cheaper("size(a)"), 2);
   }
 
   private static void meetingInTheLastRow() {

@@ -98,7 +98,7 @@ public final class TapeEdgeTest {
       h.x.feed(0x61616161, 0x61616161, 0x61616161, 0x61616161, 0x61616161);
       return false;
     } catch (IllegalStateException e) {
-      return true;
+      return e.getClass() == IllegalStateException.class;
     }
   }
 
@@ -146,7 +146,7 @@ public final class TapeEdgeTest {
       h.x.end(n);
       return false;
     } catch (IllegalArgumentException e) {
-      return true;
+      return e.getClass() == IllegalArgumentException.class;
     }
   }
 

@@ -11,6 +11,7 @@ public final class TextsEdgeTest {
     signs();
     prices();
     moreMustCome();
+    textsThatWereCut();
     whatCannotStand();
     questionMarks();
     truthsBeforeBrackets();
@@ -256,6 +257,37 @@ public final class TextsEdgeTest {
         dueFault("more must come", call, text, 1, text.length());
         dueFault("more must come", call, text.trim(), 1, text.trim().length());
       }
+    }
+  }
+
+  /** A text that end() has cut is as long as it is told: the bytes that stood behind it are not read. */
+  private static void textsThatWereCut() {
+    String[][] texts = {
+      {"ask", "find n t->n;use add:2,15,\"ab\";row 3 true=12;law x:n->f(x,true)=add(x,15);"}, {"act", "act me n s->t=same(a,len(\"abc\"))"},
+      {"loop", "loop n from a,12 while less(a,15) do add(a,1),b give \"ab\""}, {"value", "add(len(\"abcdef\"),15)"}, {"sketch", "less(?,add(12,?))"},
+      {"keeps", "not(less(a,15))"}
+    };
+    for (String[] each : texts) {
+      for (int n = 0; n <= each[1].length(); n++) {
+        House fresh = framed();
+        int answer = read(fresh, each[0], each[1].substring(0, n));
+        House h = framed();
+        h.tape(each[1]);
+        h.x.end(n);
+        House.due(each[1] + " cut behind " + n, call(h, each[0]), answer);
+        House.due(each[1] + " cut behind " + n + ", its place", h.x.place(), fresh.x.place());
+      }
+    }
+  }
+
+  private static int call(House h, String call) {
+    switch (call) {
+      case "value": return h.x.value();
+      case "sketch": return h.x.sketch();
+      case "keeps": return h.x.keeps();
+      case "act": return h.x.act();
+      case "ask": return h.x.ask();
+      default: return h.x.loop();
     }
   }
 
@@ -553,6 +585,12 @@ public final class TextsEdgeTest {
     other.fault("f in mend", other.mend("not(f(a))", 1), 2, 4);
     other.fault("f in keeps", other.keeps("f(a)"), 2, 0);
     other.fault("f in an ask's next text", other.value("f(1)"), 2, 0);
+    String[] broken = {"find n -> n; use 1; law x:n -> f(", "find n -> n; use 1; law x:n -> f(x) = f(x", "find n -> n; use 1; law x:n -> f(x) = x; law"};
+    for (String text : broken) {
+      House.due("a law that cannot be read", h.ask(text), -11);
+      h.fault("behind it f is not known", h.value("f(1)"), 2, 0);
+      h.fault("behind it f is not known, in an act", h.act("act g n -> n = f(a)"), 2, 15);
+    }
   }
 
   private static void whatIsKnown() {

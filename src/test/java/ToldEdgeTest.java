@@ -8,17 +8,22 @@ public final class ToldEdgeTest {
     oneToThreeNumbers();
     firstRowOfNumbers();
     sketchesOfEachKind();
+    sketchesWithValues();
     sketchRefusals();
     sketchFaults();
     mendAsItIs();
     mendTheLeast();
     mendPlaces();
     mendErrors();
+    mendByLaws();
+    mendBehindOthers();
+    mendInOwnActs();
     mendRefusals();
     mendedStays();
     workOfSketches();
     workOfMends();
     workOfNothing();
+    workOfOne();
     workComesLast();
     House.finish();
   }
@@ -149,6 +154,24 @@ public final class ToldEdgeTest {
     House.due("three parameters", h.sketch("if(both(a,both(b,c)),?,?)"), 9 * 16 + 4);
   }
 
+  /** Values in a sketch stay as they are told, before a ? and behind it. */
+  private static void sketchesWithValues() {
+    House h = new House();
+    h.ask("find n -> n; use 1; row 0 = 5;");
+    House.due("a word behind", h.sketch("add(?,len(\"abc\"))"), 2);
+    House.due("its text", h.term(), "add(2,len(\"abc\"))");
+    House.due("a word before", h.sketch("add(len(\"ab\"),?)"), 3);
+    House.due("its text", h.term(), "add(len(\"ab\"),3)");
+    House.due("words without letters", h.sketch("add(len(\"\"),add(?,len(\"\")))"), 5);
+    House.due("its text", h.term(), "add(len(\"\"),add(5,len(\"\")))");
+    House.due("truths", h.sketch("if(false,0,if(true,?,0))"), 5);
+    House.due("its text", h.term(), "if(false,0,if(true,5,0))");
+    House.due("numbers", h.sketch("add(0,add(?,4))"), 1);
+    House.due("its text", h.term(), "add(0,add(1,4))");
+    House.due("parameters", h.sketch("add(a,?)"), 5);
+    House.due("its text", h.term(), "add(a,5)");
+  }
+
   private static void sketchRefusals() {
     House h = new House();
     House.due("without an ask", h.sketch("?"), -2);
@@ -272,6 +295,75 @@ public final class ToldEdgeTest {
     House.due("place 2", h.x.mended(), 2);
   }
 
+  /** By laws alone: what was looked at before does not count. */
+  private static void mendByLaws() {
+    String ask = "find n -> n; use 1, 2; law x:n -> f(x) = add(x,1);";
+    House h = new House();
+    h.ask(ask);
+    House.due("it meets", h.mend("add(1,a)", 1), 0);
+    House.due("another does not", h.mend("add(a,2)", 1), 1);
+    House.due("its text", h.term(), "add(a,1)");
+    House.due("one that meets again", h.mend("sub(a,15)", 1), 0);
+    House.due("its text", h.term(), "sub(a,15)");
+    House other = new House();
+    other.ask(ask);
+    House.due("it does not meet", other.mend("xor(a,3)", 1), 100);
+    House.due("nor by find", other.x.find(1), 0);
+    House.due("it meets", other.mend("add(a,add(0,1))", 1), 0);
+    House.due("nor by a sketch", other.sketch("xor(a,?)"), 4096);
+    House.due("it meets", other.mend("add(add(0,1),a)", 1), 0);
+    House.due("by what is put in", other.mend("add(a,add(0,2))", 2), 1);
+    House.due("its place", other.x.mended(), 2);
+    House.due("its text", other.term(), "add(a,1)");
+  }
+
+  /** Acts before the place and behind it stay as they are, whatever SIZE is put in. */
+  private static void mendBehindOthers() {
+    House h = new House();
+    h.ask("find n n -> n; use add; row 3 5 = 5; row 2 7 = 2; row 1 1 = 3;");
+    House.due("behind an act, a longer one", h.mend("add(mul(a,b),9)", 3), 3);
+    House.due("its place", h.x.mended(), 4);
+    House.due("its text", h.term(), "add(mul(a,b),add(a,a))");
+    House.due("its answer", h.x.answer(3 * 16 + 5), 5);
+    House.due("behind a deeper one", h.mend("add(mul(a,mul(1,b)),9)", 3), 3);
+    House.due("its place", h.x.mended(), 6);
+    House.due("its text", h.term(), "add(mul(a,mul(1,b)),add(a,a))");
+    House.due("between two", h.mend("sub(add(mul(a,b),9),mul(b,0))", 3), 3);
+    House.due("its place", h.x.mended(), 5);
+    House.due("its text", h.term(), "sub(add(mul(a,b),add(a,a)),mul(b,0))");
+    House.due("before one", h.mend("add(9,mul(a,b))", 3), 3);
+    House.due("its place", h.x.mended(), 1);
+    House.due("its text", h.term(), "add(add(a,a),mul(a,b))");
+    House.due("a shorter one", h.mend("sub(add(mul(a,b),mul(a,2)),mul(b,3))", 3), 100);
+    h.ask("find n n -> n; use 2; row 3 5 = 5; row 2 7 = 2; row 1 1 = 3;");
+    House.due("a shorter one", h.mend("add(mul(a,b),mul(a,mul(3,b)))", 1), 1);
+    House.due("its place", h.x.mended(), 6);
+    House.due("its text", h.term(), "add(mul(a,b),mul(a,2))");
+    House.due("between two", h.mend("sub(add(mul(a,b),mul(mul(b,b),a)),mul(b,0))", 1), 1);
+    House.due("its place", h.x.mended(), 6);
+    House.due("its text", h.term(), "sub(add(mul(a,b),mul(2,a)),mul(b,0))");
+  }
+
+  /** The place may stand in operands of own acts, also of words. */
+  private static void mendInOwnActs() {
+    House h = new House();
+    h.act("act twice s -> s = cat(a,a)");
+    h.act("act some s n -> s = take(twice(a),b)");
+    h.ask("find s s -> s; use 1, 3; row \"ab\" \"cd\" = \"baba\"; row \"x\" \"y\" = \"xx\";");
+    House.due("within an own act", h.mend("rev(twice(b))", 1), 1);
+    House.due("its place", h.x.mended(), 2);
+    House.due("its text", h.term(), "rev(twice(a))");
+    House.due("its answer", h.x.answer(0), ((2 * 27 + 1) * 27 + 2) * 27 + 1);
+    h.ask("find s s -> s; use 1, 3; row \"ab\" \"cd\" = \"aba\"; row \"x\" \"y\" = \"xx\";");
+    House.due("a number of an own act", h.mend("some(a,add(1,1))", 1), 1);
+    House.due("its place", h.x.mended(), 2);
+    House.due("its text", h.term(), "some(a,3)");
+    House.due("a word of an own act", h.mend("some(rev(b),3)", 1), 1);
+    House.due("its place", h.x.mended(), 1);
+    House.due("its text", h.term(), "some(a,3)");
+    House.due("its answer", h.x.answer(1), 24 * 27 + 24);
+  }
+
   private static void mendRefusals() {
     House h = new House();
     House.due("NONE before FAULT", h.mend("foo", 0), -1);
@@ -366,7 +458,7 @@ public final class ToldEdgeTest {
     House.due("256 more", h.sketch("?"), -3);
     h.ask("find s -> n; use 1; row \"\" = 0;");
     House.due("16 more, the least that there is", h.sketch("?"), -3);
-    House.due("1 more, by mend", h.mend("0", 1), -3);
+    House.due("2 more, by mend", h.mend("0", 1), -3);
     House two = almostDone();
     two.ask("find s -> n; use 1; row \"\" = 0; row \"a\" = 0;");
     House.due("two rows, sixteen numbers, 17 terms: 544", two.sketch(oneHole(17)), -3);
@@ -421,6 +513,30 @@ public final class ToldEdgeTest {
     h.ask("find n n -> n; use 1; row 1 1 = 1;");
     House.due("find has none", h.x.find(2), 1);
     House.due("nor cheaper", h.cheaper("1"), 1);
+  }
+
+  /** A term of words of a SIZE, that gives "" for "". */
+  private static String wordOf(int size) {
+    if (size == 1) {
+      return "a";
+    }
+    int left = (size - 1) / 2;
+    return size % 2 == 0 ? "rev(" + wordOf(size - 1) + ")" : "cat(" + wordOf(left) + "," + wordOf(size - 1 - left) + ")";
+  }
+
+  /** The last piece of WORK that there is room for is a single one: 999999999 and 1, then 1000000000 and 1. */
+  private static void workOfOne() {
+    House h = almostDone();
+    h.ask("find s -> s; use 1:2; row \"\" = \"\";");
+    House.due("one function, one point, 23 terms: 529", h.mend(wordOf(23), 1), -3);
+    House.due("one function, one point, 22 terms: 484", h.mend(wordOf(22), 1), 0);
+    House.due("5 terms: 25", h.mend(wordOf(5), 1), 0);
+    House.due("1 term: 1", h.mend("a", 1), 0);
+    House.due("1 term: 1", h.mend("a", 1), 0);
+    House.due("1 is left, 2 terms: 4", h.mend("rev(a)", 1), -3);
+    House.due("1 is left, two functions: 2", h.mend("a", 2), -3);
+    House.due("1 is left: 1", h.mend("a", 1), 0);
+    House.due("none is left: 1", h.mend("a", 1), -3);
   }
 
   /** ROOM for WORK is last of all. */

@@ -21,9 +21,11 @@ public final class ValuesEdgeTest {
     workedWithErrors();
     workedOfIfAndPick();
     workedOfOwnActs();
+    workedOfEachOperand();
     workedOfTheLatest();
     kindsOfOperands();
     numbersOfOperands();
+    ownActsChangeNoOthers();
     House.finish();
   }
 
@@ -383,6 +385,31 @@ public final class ValuesEdgeTest {
     worked(h, "if(false,1,up(1))", 4);
   }
 
+  /** What is in an own act counts as it is worked out for just these operands, 0 and no letters, too. */
+  private static void workedOfEachOperand() {
+    House h = new House();
+    h.act("act one n -> n = if(same(a,3),add(a,add(1,1)),a)");
+    h.act("act two n n -> n = if(same(b,3),add(a,add(1,1)),a)");
+    h.act("act word s -> n = if(like(a,\"\"),len(rev(a)),1)");
+    h.act("act pair n s -> n = if(like(b,\"\"),a,add(a,1))");
+    h.act("act truth t n -> n = if(a,b,add(b,add(1,1)))");
+    for (int n = 0; n < 16; n++) {
+      worked(h, "one(" + n + ")", n == 3 ? 5 : 3);
+    }
+    for (int n = 0; n < 6; n++) {
+      worked(h, "two(0," + n + ")", n == 3 ? 5 : 3);
+      worked(h, "two(" + n + ",3)", 5);
+    }
+    worked(h, "word(\"\")", 5);
+    worked(h, "word(\"a\")", 3);
+    worked(h, "pair(0,\"\")", 3);
+    worked(h, "pair(0,\"a\")", 4);
+    worked(h, "truth(false,0)", 4);
+    worked(h, "truth(true,0)", 2);
+    worked(h, "truth(false,1)", 4);
+    worked(h, "truth(true,1)", 2);
+  }
+
   /** Only a value() that is not refused changes worked(). */
   private static void workedOfTheLatest() {
     House h = new House();
@@ -434,6 +461,36 @@ public final class ValuesEdgeTest {
         h.fault(right + " without any", h.value(" " + act[0] + "()"), 1, act[0].length() + 2);
       }
       h.fault(act[0] + " alone", h.value(act[0]), 2, 0);
+    }
+  }
+
+  /** Ten own acts of all kinds: what was known before is as it was. */
+  private static void ownActsChangeNoOthers() {
+    String[] kinds = {"n n -> n = b", "n n -> n = add(a,b)", "t t -> t = both(a,b)", "s s -> s = b", "n s -> t = same(a,len(b))", "n -> n = a", "t -> t = a",
+      "s -> s = a", "s n -> s = take(a,b)", "n n -> n = sub(a,b)"};
+    for (String[] act : OPERANDS) {
+      House h = new House();
+      for (int i = 0; i < kinds.length; i++) {
+        House.due("own act " + i, h.act("act o" + (char) ('a' + i) + " " + kinds[i]), i + 1);
+      }
+      House.due(term(act, -1, ""), h.value(term(act, -1, "")) >= 0 ? 1 : 0, 1);
+      for (int k = 0; k < act[1].length(); k++) {
+        for (String wrong : new String[] {"1", "true", "\"a\""}) {
+          if (!wrong.equals(good(act[1].charAt(k)))) {
+            String text = term(act, k, "@");
+            h.fault(text + " with " + wrong, h.value(text.replace("@", wrong)), 3, text.indexOf('@'));
+          }
+        }
+      }
+    }
+    House h = new House();
+    for (int i = 0; i < 10; i++) {
+      h.act("act o" + (char) ('a' + i) + " n n -> n = add(a,mul(b," + i + "))");
+    }
+    for (int i = 0; i < 10; i++) {
+      for (int[] two : new int[][] {{0, 0}, {0, 15}, {15, 0}, {15, 15}, {7, 8}}) {
+        due(h, "o" + (char) ('a' + i) + "(" + two[0] + "," + two[1] + ")", (two[0] + two[1] * i) % 16);
+      }
     }
   }
 }

@@ -19,6 +19,8 @@ public final class WordRowsEdgeTest {
     spotsThatAreNotThere();
     cutsGoFurtherOn();
     thePrices();
+    pricesOfTheLastLetters();
+    allSpotsOfTen();
     theFirstOfAlike();
     numbersOfParts();
     partsOutOfRange();
@@ -26,8 +28,10 @@ public final class WordRowsEdgeTest {
     theProgramStays();
     applyLengths();
     applyRefusals();
+    applySecondSpots();
     applyManyLetters();
     places400();
+    placesBehindOthers();
     againstTheModel();
     House.finish();
   }
@@ -301,6 +305,41 @@ public final class WordRowsEdgeTest {
     House.due("and a word", h.x.fit(), 10);
   }
 
+  /** A word's price is 2 for each letter, whichever these are. */
+  private static void pricesOfTheLastLetters() {
+    for (String word : new String[] {"a", "z", "aa", "az", "za", "zz", "aaa", "azz", "zaa", "zzz"}) {
+      House h = new House();
+      h.example("", word);
+      House.due("the price of " + word, h.x.fit(), 2 * word.length());
+      House.due("one part", h.x.part(0, 0), 1);
+      House.due("of no other", h.x.fitting(1), 1);
+    }
+  }
+
+  /** Ten letters, each of another kind, have 42 SPOTS: all of them count. */
+  private static void allSpotsOfTen() {
+    String in = "abcdefghij";
+    for (int from = 0; from < 10; from++) {
+      for (int to = from + 1; to <= 10; to += 3) {
+        House h = new House();
+        h.example(in, in.substring(from, to));
+        int words = to - from <= 3 ? 1 : 0;
+        int left = from == 0 ? 3 : 4;
+        int right = to == 10 ? 3 : 4;
+        House.due("from " + from + " to " + to, h.x.fitting(1), words + left * right);
+      }
+    }
+    House h = new House();
+    h.example("zzzyyyxxxw", "w");
+    House.due("three of a kind: the 1st, 2nd and 3rd of each", h.x.fitting(1), 1 + 4 * 3);
+    h.x.clear();
+    h.example("zzzzyyyyxx", "x");
+    House.due("the last letter, and the first x", h.x.fitting(1), 1 + 3 * 4 + 4 * 3);
+    h.x.clear();
+    h.example("aaaaaaaaaa", "a");
+    House.due("the first four letters by spots of a, too", h.x.fitting(1), 1 + 3 * 4 + 4 * 4 + 4 * 3 + 3 * 2 + 6 * 2 * 2);
+  }
+
   private static void due(House h, String what, int... told) {
     for (int i = 0; i < told.length / 3; i++) {
       for (int k = 0; k < 3; k++) {
@@ -487,6 +526,47 @@ public final class WordRowsEdgeTest {
     House.due("front 10 of nine", h.apply("jjjjjjjjj"), -1);
   }
 
+  /** The second SPOT of a cut is a letter's, too: it must be there, and further on. */
+  private static void applySecondSpots() {
+    House h = new House();
+    h.example("paqbr", "q");
+    h.example("zzacdbrr", "cd");
+    House.due("behind a to before b", h.x.fit(), 4);
+    due(h, "its spots", 1, 100, 25);
+    String[] words = {"xaybz", "ab", "ba", "a", "b", "", "bab", "babb", "aabb", "caxxxxxxb", "axxb"};
+    int[] letters = {1, -1, -1, -1, -1, -1, -1, -1, 1, 6, 2};
+    for (int k = 0; k < words.length; k++) {
+      House.due("apply " + words[k], h.apply(words[k]), letters[k]);
+      House.due("the tape behind " + words[k], h.x.told(7), Math.max(0, letters[k]));
+    }
+    h.apply("uavwxb");
+    House.due("its letters become a row", h.x.example(1), 3);
+    h.x.clear();
+    h.example("pxq", "px");
+    h.example("x", "x");
+    h.example("ttttxx", "ttttx");
+    House.due("front 0 to behind the first x", h.x.fit(), 3);
+    due(h, "its spots", 1, 0, 100 + 3 * 23);
+    House.due("there", h.apply("abx"), 3);
+    House.due("no x", h.apply("ab"), -1);
+    House.due("an x that was cut off does not count", cutOff(h, "abx", 2), -1);
+    House.due("nor the letters behind it", cutOff(h, "abxx", 3), 3);
+    h.x.clear();
+    h.example("pxq", "q");
+    h.example("x", "x");
+    h.example("xr", "r");
+    House.due("the last letter", h.x.fit(), 2);
+    due(h, "back 1 to back 0", 1, 12, 11);
+    House.due("of one letter", cutOff(h, "qrs", 1), 1);
+    House.due("of none", cutOff(h, "qrs", 0), -1);
+  }
+
+  private static int cutOff(House h, String word, int n) {
+    h.tape(word);
+    h.x.end(n);
+    return h.x.apply();
+  }
+
   /** Four cuts of ten letters are forty, and they are the tape's. */
   private static void applyManyLetters() {
     House h = new House();
@@ -553,6 +633,51 @@ public final class WordRowsEdgeTest {
       House.due("clear", h.x.clear(), ROOMS[k].length);
       h.example("", "r");
       House.due("then there is room", h.x.fit(), 2);
+    }
+  }
+
+  /** Rows that were cleared leave nothing: neither letters of their INs and OUTs nor places. */
+  private static void placesBehindOthers() {
+    for (int k = 0; k < ROOMS.length; k++) {
+      House fresh = new House();
+      House used = new House();
+      for (int i = 0; i < 8; i++) {
+        used.example("aaaaaaaaaa", "aaaaaaaaaa");
+      }
+      used.x.fitting(4);
+      used.x.clear();
+      for (String[] row : ROOMS[k]) {
+        fresh.example(row[0], row[1]);
+        used.example(row[0], row[1]);
+      }
+      dueAlike("rows of places " + k, fresh, used);
+    }
+    String[][][] rows = {{{"ab", "b"}}, {{"ab", "ab"}, {"b", "b"}}, {{"", "ab"}}, {{"abc", "cab"}, {"bc", "cbc"}}, {{"a", "a"}}};
+    for (String[][] each : rows) {
+      House fresh = new House();
+      House used = new House();
+      for (int i = 0; i < 3; i++) {
+        used.example("abcabcabca", "bcabcabcab");
+      }
+      used.x.fitting(1);
+      used.x.clear();
+      for (String[] row : each) {
+        fresh.example(row[0], row[1]);
+        used.example(row[0], row[1]);
+      }
+      dueAlike("rows behind longer ones, " + each[0][0], fresh, used);
+    }
+  }
+
+  private static void dueAlike(String what, House fresh, House used) {
+    for (int m = 1; m <= 4; m++) {
+      House.due(what + ", fitting " + m, used.x.fitting(m), fresh.x.fitting(m));
+    }
+    House.due(what + ", fit", used.x.fit(), fresh.x.fit());
+    for (int i = 0; i < 4; i++) {
+      for (int which = 0; which <= 4; which++) {
+        House.due(what + ", part " + i, used.x.part(i, which), fresh.x.part(i, which));
+      }
     }
   }
 
