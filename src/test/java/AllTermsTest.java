@@ -29,6 +29,8 @@ public final class AllTermsTest {
   public static void main(String[] args) {
     new AllTermsTest("nt", 'n', "if add less:2 1 0:3", new int[][] {{3, 1, 4}, {3, 0, 3}}).compare(7);
     new AllTermsTest("nt", 'n', "if add less:2 1 0:3", new int[][] {}).compare(6);
+    new AllTermsTest("nt", 'n', "add sub less if 1 0:3", new int[][] {{3, 1, 4}, {3, 0, 3}}).compare(6);
+    new AllTermsTest("tt", 'n', "less:3 not if add:2 1 2", new int[][] {{1, 0, 2}, {0, 0, 1}}).compare(7);
     new AllTermsTest("t", 't', "not both any:2 true:3", new int[][] {{0, 1}}).compare(8);
     new AllTermsTest("n", 'n', "div sub:2 1 0", new int[][] {{0, -1}}).compare(6);
     new AllTermsTest("n", 't', "less not 7", new int[][] {{0, 1}, {15, 0}}).compare(7);

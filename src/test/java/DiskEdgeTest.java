@@ -497,7 +497,7 @@ public final class DiskEdgeTest {
   /** Records of each number are done again, though there is no room for new ones. */
   private static void doneAgainOnAFullDisk() {
     House h = new House();
-    h.act("act up n->n=add(a,1)");
+    h.act(Blocks.longAct("up", 62));
     h.ask("find n n->n;use 1;");
     h.mend("add(mul(a,9),1)", 1);
     h.x.keep();
@@ -505,6 +505,7 @@ public final class DiskEdgeTest {
     h.x.keep();
     House.due("learn", h.learn("nine"), 1);
     h.example("ab", "b");
+    House.due("a full block", h.x.told(5), 121);
     House.due("a block", h.x.sync(), 1);
     for (int i = 0; i < 198; i++) {
       House.due("a block", (i % 2 == 0 ? h.x.word(true) : h.x.forget()) >= 0 ? h.x.sync() : -1, 1);

@@ -223,6 +223,10 @@ public final class KeptEdgeTest {
     House truths = numbers("if(any(less(a,1),true),2,1)", "if(any(less(a,1),false),2,1)", "if(any(less(a,1),same(b,1)),2,1)");
     learnt("truths that differ", truths, "x", 8 + 8 + 10 - (3 + 3 + 5) - 8, "if(any(less(a,1),b),2,1)", "x(a,true)", "x(a,false)", "x(a,same(b,1))");
     House.due("its kinds", truths.x.own(0, -2) * 1000 + truths.x.own(0, -3), 'n' * 1000 + 't');
+    learnt("a number is no parameter", numbers("xor(7,sub(add(mul(a,8),9),1))", "xor(7,sub(add(mul(a,8),9),b))"), "x", 18 - 6 - 9, "xor(7,sub(add(mul(a,8),9),b))",
+        "x(a,1)", "x(a,b)");
+    learnt("a parameter is no number", numbers("xor(7,sub(add(mul(a,8),9),b))", "xor(7,sub(add(mul(a,8),9),1))"), "x", 18 - 6 - 9, "xor(7,sub(add(mul(a,8),9),b))",
+        "x(a,b)", "x(a,1)");
     learnt("parameters of two kept terms become one", numbers("add(mul(a,2),1)", "add(mul(a,2),1)", "add(mul(a,2),1)"), "x", 15 - 6 - 5, "add(mul(a,2),1)", "x(a)", "x(a)");
   }
 

@@ -6,6 +6,8 @@ public final class LeftoversTest {
   public static void main(String[] args) {
     asksBehindAsks();
     asksBehindStart();
+    noAskBehindStart();
+    namesOfOtherTexts();
     toldBehindLonger();
     loopsBehindLoops();
     House.finish();
@@ -103,6 +105,53 @@ public final class LeftoversTest {
       h.x.start();
       dueAlike(ASKS[k] + " behind start()", answers(h, ASKS[k]), answers(new House(), ASKS[k]));
     }
+  }
+
+  /** start() leaves no ask: terms have no parameters then, no kind is wanted of them, and nothing is a piece. */
+  private static void noAskBehindStart() {
+    House h = new House();
+    h.ask("find n t -> n; use add, 1, 7; row 1 true = 2;");
+    h.loop("loop n t from a, b while b do a, false give a");
+    House.due("a piece", h.cheaper("add(1,7)"), 3);
+    House.due("the latest", h.x.find(3), 3);
+    Blocks.goDown(h);
+    House.due("start", h.x.start(), 0);
+    House.due("a piece", h.cheaper("add(1,7)"), -2);
+    House.due("a value", h.cheaper("7"), -2);
+    h.fault("a parameter, in cheaper()", h.cheaper("add(a,1)"), 2, 4);
+    h.fault("a parameter, in mend()", h.mend("a", 1), 2, 0);
+    h.fault("a parameter, in sketch()", h.sketch("add(?,a)"), 2, 6);
+    h.fault("a variable, in keeps()", h.keeps("b"), 2, 0);
+    House.due("another kind, in mend()", h.mend("true", 1), -2);
+    House.due("another kind, in sketch()", h.sketch("less(?,1)"), -2);
+    House.due("a sketch", h.sketch("add(?,1)"), -2);
+    House.due("a truth, in keeps()", h.keeps("true"), -2);
+    House.due("find", h.x.find(3), -2);
+    House.due("a point", h.x.point(0, 0), -2);
+    House.due("an answer", h.x.answer(0), -2);
+    House.due("THE TERM", h.x.byteOf(0), -1);
+    House.due("it is not kept", h.x.keep(), -2);
+    House.due("a run", h.x.runs(0, 0), -2);
+  }
+
+  /** A token that is no NAME is not the NAME before it, of this text or another. */
+  private static void namesOfOtherTexts() {
+    House h = new House();
+    h.fault("find, alone", h.value("find"), 2, 0);
+    h.fault("; for find", h.ask("; n -> n; use 1;"), 1, 0);
+    h.fault("act, alone", h.value("act"), 2, 0);
+    h.fault("1 for act", h.act("1 x n -> n = a"), 1, 0);
+    h.fault("loop, alone", h.value("loop"), 2, 0);
+    h.fault("= for loop", h.loop("= n from a while true do a give a"), 1, 0);
+    h.fault("true, then a name of another text", h.value("add(true,1)"), 3, 4);
+    h.fault("5 for row", h.ask("find n -> n; use 1; row 1 = 1; 5 2 = 2;"), 1, 31);
+    h.fault("a word for row", h.ask("find n -> n; use 1; row 1 = 1; \"row\" 2 = 2;"), 1, 31);
+    h.fault("error, then no answer", h.ask("find n -> n; use 1; row 1 = error; row 2 = ;"), 1, 43);
+    h.fault("( for a kind behind n", h.ask("find n ( -> n; use 1;"), 1, 7);
+    h.fault("n as the last name, then no kind", h.ask("find n -> 1; use 1;"), 1, 10);
+    h.fault("true as the last name, then no value", h.ask("find t -> t; use true, ;"), 1, 23);
+    h.fault("a sign for an act's name", h.act("act ; n -> n = a"), 1, 4);
+    h.fault("a sign for a law's name", h.ask("find n -> n; use 1; law :n -> 1 = 1;"), 1, 24);
   }
 
   /** A told term has the places that it has, whatever longer ones were read before. */

@@ -1,3 +1,6 @@
+import java.util.ArrayList;
+import java.util.List;
+
 /** TERMS of an ask at their bounds: POINTS, FIND to THE QUESTION, THE TERM; promises 8 to 12 and 17 to 19. */
 public final class SearchEdgeTest {
   public static void main(String[] args) {
@@ -7,6 +10,7 @@ public final class SearchEdgeTest {
     pricesFromOneToTwelve();
     countOfJustOnePrice();
     firstAndLast();
+    threeOperandsUpToTwelve();
     roomForFunctions();
     roomOfAllKinds();
     noPoints();
@@ -194,6 +198,42 @@ public final class SearchEdgeTest {
     House.due("none behind it", h.x.ith(11, many), -1);
   }
 
+  /** All terms of if and not up to the greatest price, in ORDER. */
+  private static void threeOperandsUpToTwelve() {
+    List<List<String>> truths = new ArrayList<>();
+    List<List<String>> numbers = new ArrayList<>();
+    for (int p = 0; p <= 12; p++) {
+      truths.add(p == 0 ? List.of() : List.of("not(".repeat(p - 1) + "a" + ")".repeat(p - 1)));
+      numbers.add(new ArrayList<>());
+      if (p == 1) {
+        numbers.get(p).add("b");
+      }
+      for (int x = 1; x < p; x++) {
+        for (int y = 1; y < p; y++) {
+          int z = p - 1 - x - y;
+          for (String second : z > 0 ? numbers.get(y) : List.<String>of()) {
+            for (String third : numbers.get(z)) {
+              numbers.get(p).add("if(" + truths.get(x).get(0) + "," + second + "," + third + ")");
+            }
+          }
+        }
+      }
+    }
+    for (int p = 1; p <= 12; p++) {
+      House h = new House();
+      h.ask("find t n -> n; use if, not; row true 3 = 3;");
+      List<String> due = numbers.get(p);
+      House.due("of price " + p, h.x.count(p), due.size());
+      for (int i : new int[] {0, due.size() / 3, due.size() / 2, due.size() - 1}) {
+        if (i >= 0 && i < due.size()) {
+          House.due("price " + p + ", number " + i, h.x.ith(p, i), due.get(i).length());
+          House.due("price " + p + ", number " + i, h.term(), due.get(i));
+        }
+      }
+      House.due("behind the last", h.x.ith(p, due.size()), -1);
+    }
+  }
+
   /** 120 FUNCTIONS are not too many, 121 are. */
   private static void roomForFunctions() {
     String words = "find s -> s; use cat, \"b\", \"c\"; row \"a\" = \"b\";";
@@ -222,6 +262,18 @@ public final class SearchEdgeTest {
     House.due("for a lesser price", h.cheaper("cat(a,cat(a,a))"), 5);
     House.due("find, 8", h.x.find(8), -3);
     House.due("find, 12", h.x.find(12), -3);
+    for (int p = 7; p <= 12; p++) {
+      House.due("behind that, find " + p, h.x.find(p), -3);
+      House.due("behind that, count " + p, h.x.count(p), -3);
+      House.due("behind that, different " + p, h.x.different(p), -3);
+    }
+    House twelve = new House();
+    twelve.ask(more);
+    House.due("12 at once", twelve.x.find(12), -3);
+    for (int p = 12; p >= 7; p--) {
+      House.due("then " + p, twelve.x.find(p), -3);
+    }
+    House.due("then 6", twelve.x.find(6), 1);
     House.due("count, 6, behind a ROOM", h.x.count(6), 0);
     House.due("find, 6, behind a ROOM", h.x.find(6), 1);
     House.due("different, 6, behind a ROOM", h.x.different(6), 1);

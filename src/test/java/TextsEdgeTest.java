@@ -12,6 +12,7 @@ public final class TextsEdgeTest {
     prices();
     moreMustCome();
     textsThatWereCut();
+    textsOf2000();
     whatCannotStand();
     questionMarks();
     truthsBeforeBrackets();
@@ -183,6 +184,9 @@ public final class TextsEdgeTest {
     h.fault("- and > apart", h.ask("find n - > n; use 1;"), 1, 7);
     h.fault("-> twice", h.ask("find n ->-> n; use 1;"), 1, 9);
     h.fault("->> ", h.ask("find n ->> n; use 1;"), 1, 9);
+    for (String none : new String[] {"=>", ">>", ":>", "(>", "?>", ",>", "+>", "_>", "=->"}) {
+      h.fault("no ->: " + none, h.ask("find n " + none + " n; use 1;"), 1, 7);
+    }
     h.fault("-> for =", h.ask("find n -> n; use 1; row 1 -> 1;"), 1, 26);
     h.fault("= for ->", h.ask("find n = n; use 1;"), 1, 7);
     h.fault(", for ;", h.ask("find n -> n, use 1;"), 1, 11);
@@ -289,6 +293,36 @@ public final class TextsEdgeTest {
       case "ask": return h.x.ask();
       default: return h.x.loop();
     }
+  }
+
+  /** A tape that is full to its last byte, whatever token ends there. */
+  private static void textsOf2000() {
+    String[] ends = {"\"", "\"a", "\"abcdef", "\"abcdefg", "-", "->", "1", "15", "16", "a", "abcdefgh", "abcdefghi", "(", "?", "\u00ff", " ", "add(1", "add(1,", "\"\"", "true"};
+    int[] faults = {1, 1, 1, 1, 1, 1, 0, 0, 1, 2, 2, 1, 1, 1, 1, 1, 1, 1, 0, 0};
+    int[] places = {0, 0, 0, 0, 0, 0, 0, 0, 0, 0, 0, 0, 0, 0, 0, 1, 5, 6, 0, 0};
+    for (int k = 0; k < ends.length; k++) {
+      House h = new House();
+      int before = 2000 - ends[k].length();
+      int answer = h.value(" ".repeat(before) + ends[k]);
+      if (faults[k] == 0) {
+        clean("at the end of 2000: " + ends[k], answer);
+      } else {
+        h.fault("at the end of 2000: " + ends[k], answer, faults[k], before + places[k]);
+      }
+    }
+    House h = new House();
+    String act = "act me n->n=";
+    House.due("an own act of 2000 bytes", h.act(act + " ".repeat(2000 - act.length() - 8) + "add(a,1)"), 1);
+    House.due("it is there", h.value("me(4)"), 5);
+    h.fault("a full tape of letters", h.value("a".repeat(2000)), 1, 0);
+    House deep = new House();
+    deep.fault("a full tape of (", deep.value("(".repeat(2000)), 1, 0);
+    House names = new House();
+    names.fault("a full tape of operands", names.value("add(" + "1,".repeat(997) + "1)"), 4, 0);
+    House pieces = new House();
+    pieces.fault("a full tape of pieces", pieces.ask("find n->n;use " + "1,".repeat(992) + "1;"), 3, 16);
+    House rows = new House();
+    rows.fault("a full tape of values", rows.ask("find n->n;use 1;row" + " 1".repeat(985) + "=1; "), 4, 16);
   }
 
   /** What is no token, or can stand nowhere, is the first fault wherever it stands. */
